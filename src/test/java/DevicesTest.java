@@ -138,12 +138,15 @@ public final class DevicesTest {
         Check.load(x, 21, 9, 6, 0, 1, 0, 5, 0, 1, 2, 3);
         x.serve(0);
         C.due("written", x.record(0, 1, 5), 515);
+        Check.load(x, 21, 9, 6, 0, 1, 0, 0, 0, 1, 2, 3);
+        x.serve(0);
         C.due("second", x.file(0, 65535, 1), true);
         C.due("third", x.file(0, 3, 1), true);
         C.due("fourth", x.file(0, 4, 1), true);
         C.due("a fifth", x.file(0, 5, 1), false);
         C.due("anew", x.file(0, 1, 6), true);
         C.due("all 0", x.record(0, 1, 5), 0);
+        C.due("the first one, too", x.record(0, 1, 0), 0);
         C.due("shorter", x.record(0, 1, 6), -1);
     }
 

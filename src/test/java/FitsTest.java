@@ -156,6 +156,11 @@ public final class FitsTest {
         heard(false, b(24, 0, 9), a, b(24, 0, 6, 0, 2, 0, 7));
         heard(false, b(24, 0, 9), a, b(24, 1, 4, 0, 1, 0, 7));
         heard(false, b(24, 0, 9), a, b(24, 0, 3, 0, 1, 0));
+        FieldLine empty = line();
+        empty.queue(0, 8);
+        Check.request(empty, 5, 24, 0, 8);
+        empty.tick(200);
+        C.result(empty, "an empty queue", 0, 0, 1, 5);
         FieldLine x = line();
         x.bank(0, 2, 0, 40);
         int[] request = {24, 0, 0, 0, 34};
@@ -166,7 +171,7 @@ public final class FitsTest {
         mostInAQueue(32, false);
     }
 
-    /** A reading of 1 to 32 registers becomes a queue's answer; the request's lost bytes make it the queue's. */
+    /** A queue of 31 answers; the master hears that it has n. */
     private static void mostInAQueue(int n, boolean fits) {
         FieldLine x = line();
         for (int i = 0; i < 30; i++) {
@@ -194,6 +199,11 @@ public final class FitsTest {
         heard(false, q, a, b(43, 14, 1, 129, 0, 0, 1, 0, 2, 65));
         exchange(false, b(43, 14, 5, 0), q, a, b(43, 14, 5, 129, 0, 0, 1, 0, 2, 65, 66));
         exchange(false, b(43, 13, 1, 0), q, a, b(43, 13, 1, 129, 0, 0, 1, 0, 2, 65, 66));
+        FieldLine x = new FieldLine();
+        x.device(5, 0);
+        Check.request(x, 5, q);
+        x.tick(200);
+        C.result(x, "no texts", 0, 0, 1, 7);
         exchange(true, b(43, 14, 4, 77), q, a, b(43, 14, 4, 129, 0, 0, 1, 0, 2, 65, 66));
     }
 

@@ -11,6 +11,7 @@ public final class MasterTest {
         badAnswers();
         turn();
         strayFrames();
+        strayWithARequestInTheRow();
         waitsForTheWire();
         results();
         lostResults();
@@ -198,6 +199,23 @@ public final class MasterTest {
         C.due("its number", x.data(2), 1);
     }
 
+    private static void strayWithARequestInTheRow() {
+        FieldLine x = line(100);
+        x.settings(1, 20, 0);
+        Check.request(x, 5, 17);
+        x.tick(16 + 14 + 100 + 5);
+        C.due("the device sends", x.state(1), 2);
+        Check.request(x, 6, 17);
+        x.tick(23 + 13);
+        C.due("not ended", x.state(9), 0);
+        x.tick(1);
+        C.due("stray to a master that is free", x.state(9), 1);
+        C.due("the request stays", x.state(5), 1);
+        C.due("it was not begun", x.state(6), 0);
+        x.tick(1);
+        C.due("it is begun", x.state(6), 1);
+    }
+
     private static void waitsForTheWire() {
         FieldLine x = line(0);
         x.settings(1, 20, 0);
@@ -304,6 +322,7 @@ public final class MasterTest {
         C.due("both come", x.state(5), 2);
         C.due("the first is sent at once", x.state(1), 1);
         C.due("in order", x.sent(0), 5);
+        C.due("its PDU", x.sent(1), 17);
         x.tick(60);
         C.due("the formers are in the row", x.state(5), 2);
         C.due("next number", Check.request(x, 5, 7), 2);

@@ -6,6 +6,7 @@ public final class RulesTest {
         calls();
         whenTheyAct();
         kinds();
+        lastPlaces();
         missingPlaces();
         queueGoesRound();
         C.end();
@@ -28,7 +29,8 @@ public final class RulesTest {
         C.due("a -1", x.rule(0, 0, -1, 0, 0), false);
         C.due("b 65536", x.rule(0, 0, 0, 65536, 0), false);
         C.due("c 65536", x.rule(0, 2, 0, 0, 65536), false);
-        for (int i = 0; i < 12; i++) {
+        C.due("all 0", x.rule(0, 0, 0, 0, 0), true);
+        for (int i = 1; i < 12; i++) {
             C.due("rule " + i, x.rule(0, i % 7, 65535, 65535, 65535), true);
         }
         C.due("a thirteenth", x.rule(0, 0, 0, 0, 0), false);
@@ -102,6 +104,33 @@ public final class RulesTest {
         C.served(x, 0, Check.bytes(24, 0, 3), 24, 0, 6, 0, 2, 0, 99, 0, 1);
     }
 
+    private static void lastPlaces() {
+        FieldLine x = line();
+        x.queue(0, 65535);
+        x.put(0, 2, 19, 30);
+        x.rule(0, 0, 19, 7, 0);
+        x.rule(0, 3, 19, 19, 19);
+        x.rule(0, 4, 19, 19, 0);
+        x.rule(0, 6, 19, 65535, 19);
+        x.tick(81);
+        C.due("the gauge", x.get(0, 3, 19), 35);
+        C.due("the contact", x.get(0, 1, 19), 1);
+        C.due("the coil", x.get(0, 0, 19), 1);
+        C.served(x, 0, Check.bytes(24, 255, 255), 24, 0, 4, 0, 1, 0, 35);
+        x.rule(0, 5, 19, 19, 0);
+        x.tick(20);
+        C.due("the gauge", x.get(0, 3, 19), 0);
+        C.due("the coil", x.get(0, 0, 19), 0);
+        FieldLine y = line();
+        y.put(0, 2, 19, 30);
+        y.rule(0, 2, 19, 19, 4);
+        y.tick(1);
+        C.due("kind 2", y.get(0, 3, 19), 4);
+        y.rule(0, 1, 19, 19, 0);
+        y.tick(20);
+        C.due("kind 1", y.get(0, 3, 19), 30);
+    }
+
     private static void missingPlaces() {
         FieldLine x = line();
         x.queue(0, 3);
@@ -110,7 +139,7 @@ public final class RulesTest {
         x.rule(0, 1, 10, 20, 0);
         x.rule(0, 2, 10, 9, 5);
         x.rule(0, 3, 9, 10, 12);
-        x.rule(0, 3, 10, 20, 12);
+        x.rule(0, 3, 10, 20, 14);
         x.rule(0, 4, 9, 13, 0);
         x.rule(0, 6, 9, 3, 11);
         x.rule(0, 6, 10, 3, 9);
@@ -122,6 +151,7 @@ public final class RulesTest {
         C.due("the gauge stays", x.get(0, 3, 10), 44);
         C.due("the coil stays", x.get(0, 0, 11), 1);
         C.due("the contact stays", x.get(0, 1, 12), 1);
+        C.due("the contact of a missing register stays", x.get(0, 1, 14), 0);
         C.due("the other coil stays", x.get(0, 0, 13), 0);
         C.due("the queue stays", x.push(0, 3, 1), 1);
     }

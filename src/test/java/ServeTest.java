@@ -135,6 +135,8 @@ public final class ServeTest {
         C.refused(x, 0, 3, 6, 0, 120, 0);
         C.due("the register stays", x.get(0, 2, 103), 0x1234);
         C.due("counter 8", x.counter(0, 8), 3);
+        C.served(x, 0, b(5, 0, 119, 255, 0), 5, 0, 119, 255, 0);
+        C.due("the last coil", x.get(0, 0, 119), 1);
     }
 
     private static void diagnoses() {
@@ -205,6 +207,7 @@ public final class ServeTest {
         C.served(x, 0, b(8, 0, 20, 0, 0), 8, 0, 20, 0, 0);
         C.due("counter 8", x.counter(0, 8), 10);
         C.due("counter 0 stays", x.counter(0, 0), 4);
+        C.due("counter 7", x.counter(0, 7), 0);
         C.served(x, 0, b(8, 0, 10, 0, 0), 8, 0, 10, 0, 0);
         for (int k = 0; k <= 8; k++) {
             C.due("counter " + k, x.counter(0, k), 0);
@@ -214,8 +217,8 @@ public final class ServeTest {
 
     private static void writeMany() {
         FieldLine x = line();
-        C.served(x, 0, b(15, 0, 101, 0, 10, 2, 0x85, 0xFE), 15, 0, 101, 0, 10);
-        int[] coils = {0, 1, 0, 1, 0, 0, 0, 0, 1, 0, 1, 0};
+        C.served(x, 0, b(15, 0, 101, 0, 10, 2, 0x85, 0xFD), 15, 0, 101, 0, 10);
+        int[] coils = {0, 1, 0, 1, 0, 0, 0, 0, 1, 1, 0, 0};
         for (int i = 0; i < coils.length; i++) {
             C.due("coil " + (100 + i), x.get(0, 0, 100 + i), coils[i]);
         }
@@ -227,6 +230,11 @@ public final class ServeTest {
         C.refused(x, 0, 2, 15, 0, 113, 0, 8, 1, 1);
         C.refused(x, 0, 2, Check.join(b(15, 0, 100, 7, 176, 246), Check.repeat(0, 246)));
         C.refused(x, 0, 3, Check.join(b(15, 0, 100, 7, 177, 247), Check.repeat(0, 247)));
+        C.served(x, 0, b(15, 0, 119, 0, 1, 1, 1), 15, 0, 119, 0, 1);
+        C.due("the last coil", x.get(0, 0, 119), 1);
+        x.put(0, 2, 102, 9);
+        C.served(x, 0, b(16, 0, 101, 0, 1, 2, 1, 2), 16, 0, 101, 0, 1);
+        C.due("the register behind stays", x.get(0, 2, 102), 9);
         C.served(x, 0, b(16, 0, 118, 0, 2, 4, 1, 2, 3, 4), 16, 0, 118, 0, 2);
         C.due("register", x.get(0, 2, 118), 258);
         C.due("register", x.get(0, 2, 119), 772);
@@ -240,7 +248,9 @@ public final class ServeTest {
         x.limit(0, 119, 1, 0, 5);
         C.refused(x, 0, 3, 16, 0, 118, 0, 2, 4, 0, 1, 0, 6);
         C.due("none is written", x.get(0, 2, 118), 258);
-        C.due("counter 8", x.counter(0, 8), 2);
+        C.due("counter 8", x.counter(0, 8), 4);
+        C.served(x, 0, b(16, 0, 118, 0, 2, 4, 9, 9, 0, 5), 16, 0, 118, 0, 2);
+        C.due("within the limit", x.get(0, 2, 119), 5);
     }
 
     private static void files() {
@@ -309,12 +319,18 @@ public final class ServeTest {
         C.refused(x, 0, 3, 22, 0, 104, 0, 0, 0, 0);
         C.served(x, 0, b(22, 0, 104, 255, 255, 9, 9), 22, 0, 104, 255, 255, 9, 9);
         C.due("masked", x.get(0, 2, 104), 0x17);
+        C.served(x, 0, b(22, 0, 104, 0, 0, 0, 0x17), 22, 0, 104, 0, 0, 0, 0x17);
+        C.refused(x, 0, 3, 22, 0, 104, 0, 0, 1, 0x17);
+        C.served(x, 0, b(22, 0, 119, 0, 0, 1, 2), 22, 0, 119, 0, 0, 1, 2);
+        C.due("the last register", x.get(0, 2, 119), 258);
     }
 
     private static void readAndWrite() {
         FieldLine x = line();
         x.put(0, 2, 100, 1);
+        x.put(0, 2, 103, 8);
         C.served(x, 0, b(23, 0, 100, 0, 3, 0, 101, 0, 2, 4, 0, 2, 0, 3), 23, 6, 0, 1, 0, 2, 0, 3);
+        C.due("the register behind stays", x.get(0, 2, 103), 8);
         C.refused(x, 0, 3, 23, 0, 100, 0, 3, 0, 101, 0, 2);
         C.refused(x, 0, 3, 23, 0, 100, 0, 0, 0, 101, 0, 2, 4, 0, 2, 0, 3);
         C.refused(x, 0, 3, 23, 0, 100, 0, 126, 0, 101, 0, 2, 4, 0, 2, 0, 3);
@@ -363,6 +379,10 @@ public final class ServeTest {
         C.served(x, 0, b(43, 14, 3, 9), 43, 14, 3, 129, 0, 0, 0);
         name(x, 2, 22);
         C.served(x, 0, b(43, 14, 3, 0), 43, 14, 3, 129, 0, 0, 1, 2, 1, 22);
+        name(x, 3, 33);
+        C.served(x, 0, b(43, 14, 1, 3), 43, 14, 1, 130, 0, 0, 1, 2, 1, 22);
+        x = line();
+        name(x, 2, 22);
         name(x, 5, 55, 56);
         C.served(x, 0, b(43, 14, 1, 5), 43, 14, 1, 130, 0, 0, 1, 2, 1, 22);
         name(x, 200, 77);
@@ -372,6 +392,7 @@ public final class ServeTest {
         C.served(x, 0, b(43, 14, 2, 200), 43, 14, 2, 131, 0, 0, 3, 0, 0, 2, 1, 22, 5, 2, 55, 56);
         C.served(x, 0, b(43, 14, 3, 5), 43, 14, 3, 131, 0, 0, 2, 5, 2, 55, 56, 200, 1, 77);
         C.served(x, 0, b(43, 14, 4, 200), 43, 14, 4, 131, 0, 0, 1, 200, 1, 77);
+        C.served(x, 0, b(43, 14, 4, 2), 43, 14, 4, 131, 0, 0, 1, 2, 1, 22);
         C.refused(x, 0, 2, 43, 14, 4, 1);
         C.refused(x, 0, 3, 43, 14, 0, 0);
         C.refused(x, 0, 3, 43, 14, 5, 0);

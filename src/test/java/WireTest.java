@@ -13,6 +13,7 @@ public final class WireTest {
         harmsCountFromTheNextByte();
         turnedByte();
         lostBytes();
+        oneByteIsAFrame();
         lateBytes();
         lateByteEndsAFrame();
         lateAnswer();
@@ -224,6 +225,22 @@ public final class WireTest {
         counters(z, "the silence began with the lost ones", 0, is(1, 1), is(14, 0));
     }
 
+    private static void oneByteIsAFrame() {
+        FieldLine x = asked(0, 17);
+        for (int i = 1; i < 4; i++) {
+            x.harm(i, 256);
+        }
+        x.tick(ENDED);
+        counters(x, "a byte alone", 0, is(1, 1), is(14, 0), is(10, 1));
+        FieldLine y = asked(0, 17);
+        for (int i = 0; i < 4; i++) {
+            y.harm(i, 256);
+        }
+        y.tick(ENDED);
+        counters(y, "no byte at all", 0, is(1, 0), is(10, 0));
+        states(y, "no byte at all", is(10, 4));
+    }
+
     private static void lateBytes() {
         FieldLine x = asked(0, 17);
         x.harm(0, 340);
@@ -313,10 +330,17 @@ public final class WireTest {
         Check.request(x, 5, 8, 0, 1, 0, 1);
         x.tick(100);
         counters(x, "no restart of another value", 0, is(9, 1), is(4, 4));
+        x.bank(0, 2, 0, 8);
+        Check.request(x, 5, 6, 0, 1, 255, 0);
+        Check.request(x, 5, 8, 0, 20, 0, 0);
+        Check.request(x, 5, 8, 0, 0);
+        x.tick(300);
+        C.due("no other function", x.get(0, 2, 1), 0);
+        counters(x, "no other function", 0, is(8, 1), is(4, 7), is(12, 0));
         x.busy(0, 1);
         Check.request(x, 5, 8, 0, 1, 0, 0);
         x.tick(100);
-        counters(x, "busy", 0, is(9, 1), is(4, 5), is(11, 1), is(6, 0));
+        counters(x, "busy", 0, is(9, 1), is(4, 8), is(11, 1), is(6, 0));
         x.busy(0, 0);
         x.harm(0, 1);
         Check.request(x, 5, 17);
@@ -365,14 +389,14 @@ public final class WireTest {
     private static void eventsGoRound() {
         FieldLine x = line(0);
         for (int i = 0; i < 70; i++) {
-            Check.load(x, 8, 0, i < 10 ? 4 : 1, 0, 0);
+            Check.load(x, 8, 0, i % 3 == 0 ? 4 : 1, 0, 0);
             x.serve(0);
         }
         counters(x, "events", 0, is(10, 64));
-        C.due("the oldest", x.event(0, 63), 4);
+        for (int k = 0; k < 64; k++) {
+            C.due("event " + k, x.event(0, k), (69 - k) % 3 == 0 ? 4 : 0);
+        }
         C.due("none older", x.event(0, 64), -1);
-        C.due("the latest of the old", x.event(0, 60), 4);
-        C.due("the first of the new", x.event(0, 59), 0);
     }
 
     private static void deviceInTheMiddle() {
