@@ -1,17 +1,18 @@
 /** Promises 5 to 14 and 16: what a device is and what it keeps. */
-public final class DevicesTest {
-    private static final Check C = new Check("DevicesTest");
+public final class DevicesTest extends Check {
+    private static final int LEAST = Integer.MIN_VALUE;
+    private static final int GREATEST = Integer.MAX_VALUE;
 
     public static void main(String[] args) {
-        device();
-        bank();
+        devices();
+        banks();
         putAndGet();
-        limit();
-        fileAndRecord();
-        queueAndPush();
-        name();
+        limits();
+        files();
+        queues();
+        texts();
         busy();
-        C.end();
+        end("DevicesTest");
     }
 
     private static FieldLine withDevice() {
@@ -20,198 +21,755 @@ public final class DevicesTest {
         return x;
     }
 
-    private static void device() {
-        FieldLine x = new FieldLine();
-        C.due("address 0", x.device(0, 0), -1);
-        C.due("address 248", x.device(248, 0), -1);
-        C.due("lag -1", x.device(1, -1), -1);
-        C.due("lag 2001", x.device(1, 2001), -1);
-        C.due("device", x.device(1, 0), 0);
-        C.due("the same address", x.device(1, 5), -1);
-        C.due("second", x.device(247, 2000), 1);
-        for (int i = 2; i < 6; i++) {
-            C.due("device " + i, x.device(i, i), i);
-        }
-        C.due("a seventh", x.device(100, 0), -1);
-        C.due("state(12)", x.state(12), 6);
-        C.due("address of 1", x.counter(1, 16), 247);
-        C.due("address of 5", x.counter(5, 16), 5);
+    private static void devices() {
+        deviceNumbers();
+        sixDevices();
+        deviceAddress();
+        deviceAddressOfAnother();
+        deviceLag();
     }
 
-    private static void bank() {
+    private static void deviceNumbers() {
+        sentence("5: a new device: its number");
+        FieldLine x = new FieldLine();
+        for (int i = 0; i < 6; i++) {
+            due("state(12)", x.state(12), i);
+            due("device " + i, x.device(10 + i, i), i);
+            due("its address", x.counter(i, 16), 10 + i);
+        }
+    }
+
+    private static void sixDevices() {
+        sentence("5: NONE: there are six");
+        FieldLine x = new FieldLine();
+        for (int i = 0; i < 5; i++) {
+            x.device(10 + i, 0);
+        }
+        due("the sixth", x.device(20, 0), 5);
+        due("a seventh", x.device(21, 0), NONE);
+        due("state(12)", x.state(12), 6);
+        due("counter(6, 16)", x.counter(6, 16), NONE);
+    }
+
+    private static void deviceAddress() {
+        sentence("5: NONE: the address is not 1 to 247");
+        FieldLine x = new FieldLine();
+        int[] wrong = {0, 248, -1, 257, LEAST, GREATEST};
+        for (int address : wrong) {
+            due("address " + address, x.device(address, 0), NONE);
+        }
+        due("state(12)", x.state(12), 0);
+        due("address 1", x.device(1, 0), 0);
+        due("address 247", x.device(247, 0), 1);
+    }
+
+    private static void deviceAddressOfAnother() {
+        sentence("5: NONE: the address is another one's");
+        FieldLine x = new FieldLine();
+        x.device(1, 0);
+        x.device(2, 0);
+        x.device(3, 0);
+        due("the first one's", x.device(1, 5), NONE);
+        due("the last one's", x.device(3, 5), NONE);
+        due("nobody's", x.device(4, 5), 3);
+    }
+
+    private static void deviceLag() {
+        sentence("5: NONE: LAG not 0 to 2000");
+        FieldLine x = new FieldLine();
+        int[] wrong = {-1, 2001, LEAST, GREATEST};
+        for (int lag : wrong) {
+            due("lag " + lag, x.device(1, lag), NONE);
+        }
+        due("lag 0", x.device(1, 0), 0);
+        due("lag 2000", x.device(2, 2000), 1);
+        request(x, 2, 17);
+        x.tick(30);
+        counters(x, 1, "a reply", 13, 2000);
+    }
+
+    private static void banks() {
+        bankNoneAtFirst();
+        bankPlaces();
+        bankMadeAnew();
+        bankWithoutDevice();
+        bankKind();
+        bankFrom();
+        bankSize();
+        bankBeyondTheLastPlace();
+    }
+
+    private static void bankNoneAtFirst() {
+        sentence("Terms 2: BANKS, each of some places (none at first)");
         FieldLine x = withDevice();
-        C.due("no device", x.bank(1, 0, 0, 1), false);
-        C.due("device -1", x.bank(-1, 0, 0, 1), false);
-        C.due("kind -1", x.bank(0, -1, 0, 1), false);
-        C.due("kind 4", x.bank(0, 4, 0, 1), false);
-        C.due("from -1", x.bank(0, 0, -1, 1), false);
-        C.due("from 65536", x.bank(0, 0, 65536, 0), false);
-        C.due("n -1", x.bank(0, 0, 0, -1), false);
-        C.due("n 401", x.bank(0, 0, 0, 401), false);
-        C.due("beyond 65535", x.bank(0, 0, 65535, 2), false);
-        C.due("from the greatest", x.bank(0, 0, Integer.MAX_VALUE, 400), false);
-        C.due("the last place", x.bank(0, 0, 65535, 1), true);
-        C.due("its value", x.get(0, 0, 65535), 0);
-        C.due("400 places", x.bank(0, 2, 65136, 400), true);
-        C.due("the last of them", x.get(0, 2, 65535), 0);
-        C.due("none ahead", x.get(0, 2, 65135), -1);
-        x.put(0, 2, 65136, 9);
-        C.due("made anew", x.bank(0, 2, 65136, 3), true);
-        C.due("all 0", x.get(0, 2, 65136), 0);
-        C.due("no fourth", x.get(0, 2, 65139), -1);
-        C.due("a refused one", x.bank(0, 2, 0, 500), false);
-        C.due("changes nothing", x.get(0, 2, 65138), 0);
-        C.due("no places", x.bank(0, 2, 5, 0), true);
-        C.due("none is there", x.get(0, 2, 5), -1);
+        for (int kind = 0; kind < 4; kind++) {
+            due("get, kind " + kind, x.get(0, kind, 0), NONE);
+            due("put, kind " + kind, x.put(0, kind, 0, 1), false);
+        }
+    }
+
+    private static void bankPlaces() {
+        sentence("6: n places (0 to 400) from one on, all 0");
+        FieldLine x = withDevice();
+        for (int kind = 0; kind < 4; kind++) {
+            due("bank", x.bank(0, kind, 1000 * kind + 5, 400), true);
+            for (int at = 5; at < 405; at += 57) {
+                due("place " + at, x.get(0, kind, 1000 * kind + at), 0);
+            }
+            due("the first", x.get(0, kind, 1000 * kind + 5), 0);
+            due("the last", x.get(0, kind, 1000 * kind + 404), 0);
+            due("the one ahead", x.get(0, kind, 1000 * kind + 4), NONE);
+            due("the one behind", x.get(0, kind, 1000 * kind + 405), NONE);
+        }
+        due("the first bank stays", x.get(0, 0, 5), 0);
+        due("no places", x.bank(0, 0, 5, 0), true);
+        due("none is there", x.get(0, 0, 5), NONE);
+        due("nor ahead", x.get(0, 0, 4), NONE);
+    }
+
+    private static void bankMadeAnew() {
+        sentence("6: a device's bank is made anew, all 0");
+        FieldLine x = withDevice();
+        x.bank(0, 2, 10, 5);
+        for (int at = 10; at < 15; at++) {
+            x.put(0, 2, at, 9);
+        }
+        due("bank", x.bank(0, 2, 9, 4), true);
+        for (int at = 9; at < 13; at++) {
+            due("place " + at, x.get(0, 2, at), 0);
+        }
+        due("a place of the former one", x.get(0, 2, 13), NONE);
+        x.bank(0, 2, 10, 5);
+        due("a place of the one ahead", x.get(0, 2, 14), 0);
+    }
+
+    private static void bankWithoutDevice() {
+        sentence("6: false: no such device");
+        FieldLine x = withDevice();
+        due("device 1", x.bank(1, 0, 0, 1), false);
+        due("device -1", x.bank(-1, 0, 0, 1), false);
+        due("device 6", x.bank(6, 0, 0, 1), false);
+        due("device least", x.bank(LEAST, 0, 0, 1), false);
+        due("device greatest", x.bank(GREATEST, 0, 0, 1), false);
+    }
+
+    private static void bankKind() {
+        sentence("6: false: no such kind");
+        FieldLine x = withDevice();
+        due("kind -1", x.bank(0, -1, 0, 1), false);
+        due("kind 4", x.bank(0, 4, 0, 1), false);
+        due("kind 0", x.bank(0, 0, 0, 1), true);
+        due("kind 3", x.bank(0, 3, 0, 1), true);
+    }
+
+    private static void bankFrom() {
+        sentence("6: false: from is not 0 to 65535");
+        FieldLine x = withDevice();
+        int[] wrong = {-1, 65536, LEAST, GREATEST};
+        for (int from : wrong) {
+            due("from " + from, x.bank(0, 2, from, 0), false);
+            due("from " + from, x.bank(0, 2, from, 2), false);
+        }
+        due("from 0", x.bank(0, 2, 0, 1), true);
+        due("from 65535", x.bank(0, 2, 65535, 0), true);
+    }
+
+    private static void bankSize() {
+        sentence("6: false: n is not 0 to 400");
+        FieldLine x = withDevice();
+        x.bank(0, 2, 7, 3);
+        int[] wrong = {-1, 401, LEAST, GREATEST};
+        for (int n : wrong) {
+            due("n " + n, x.bank(0, 2, 0, n), false);
+        }
+        due("the bank stays", x.get(0, 2, 9), 0);
+        due("n 400", x.bank(0, 2, 0, 400), true);
+        due("n 0", x.bank(0, 2, 0, 0), true);
+    }
+
+    private static void bankBeyondTheLastPlace() {
+        sentence("6: false: a place would be beyond 65535");
+        FieldLine x = withDevice();
+        due("two from 65535", x.bank(0, 2, 65535, 2), false);
+        due("400 from 65137", x.bank(0, 2, 65137, 400), false);
+        due("one from 65535", x.bank(0, 2, 65535, 1), true);
+        due("the last place", x.get(0, 2, 65535), 0);
+        due("none behind it", x.get(0, 2, 65536), NONE);
+        due("400 from 65136", x.bank(0, 2, 65136, 400), true);
+        due("the last place", x.get(0, 2, 65535), 0);
     }
 
     private static void putAndGet() {
-        FieldLine x = withDevice();
-        for (int kind = 0; kind < 4; kind++) {
-            C.due("put without a bank", x.put(0, kind, 0, 1), false);
-            x.bank(0, kind, 10, 3);
-            C.due("put", x.put(0, kind, 11, -2), true);
-            C.due("get", x.get(0, kind, 11), kind < 2 ? 0 : 65534);
-            x.put(0, kind, 11, 0x12345);
-            C.due("get", x.get(0, kind, 11), kind < 2 ? 1 : 0x2345);
-            C.due("the place behind", x.get(0, kind, 12), 0);
-            C.due("put ahead", x.put(0, kind, 9, 1), false);
-            C.due("put behind", x.put(0, kind, 13, 1), false);
-            C.due("put at the least", x.put(0, kind, Integer.MIN_VALUE, 1), false);
-            C.due("get ahead", x.get(0, kind, 9), -1);
-            C.due("get behind", x.get(0, kind, 13), -1);
-            C.due("get at the least", x.get(0, kind, Integer.MIN_VALUE), -1);
-            C.due("get at the greatest", x.get(0, kind, Integer.MAX_VALUE), -1);
-        }
-        C.due("put, no device", x.put(1, 0, 11, 1), false);
-        C.due("get, no device", x.get(-1, 0, 11), -1);
-        C.due("put, no kind", x.put(0, 4, 11, 1), false);
-        C.due("get, no kind", x.get(0, -1, 11), -1);
+        putBits();
+        putWords();
+        putWithoutPlace();
+        getValue();
+        getWithoutPlace();
     }
 
-    private static void limit() {
+    private static void putBits() {
+        sentence("7: its value is v's lowest bit (0, 1)");
+        FieldLine x = withDevice();
+        int[] values = {0, 1, 2, 3, -1, -2, LEAST, GREATEST, 65536};
+        for (int kind = 0; kind < 2; kind++) {
+            x.bank(0, kind, 10, 3);
+            for (int v : values) {
+                due("put", x.put(0, kind, 11, v), true);
+                due("of " + v, x.get(0, kind, 11), v & 1);
+            }
+        }
+    }
+
+    private static void putWords() {
+        sentence("7: its value is v's lowest 16 bits (2, 3)");
+        FieldLine x = withDevice();
+        int[] values = {0, 65535, 65536, 65537, 0x12345, -1, -2, LEAST, GREATEST};
+        for (int kind = 2; kind < 4; kind++) {
+            x.bank(0, kind, 10, 3);
+            for (int v : values) {
+                due("put", x.put(0, kind, 11, v), true);
+                due("of " + v, x.get(0, kind, 11), v & 65535);
+            }
+        }
+    }
+
+    private static void putWithoutPlace() {
+        sentence("7: false if there is none");
+        FieldLine x = withDevice();
+        int[] places = {9, 13, -1, LEAST, GREATEST, 65536 + 11};
+        for (int kind = 0; kind < 4; kind++) {
+            x.bank(0, kind, 10, 3);
+            for (int at : places) {
+                due("at " + at, x.put(0, kind, at, 1), false);
+            }
+            due("the first place stays", x.get(0, kind, 10), 0);
+            due("the last place stays", x.get(0, kind, 12), 0);
+            due("the first place", x.put(0, kind, 10, 1), true);
+            due("the last place", x.put(0, kind, 12, 1), true);
+        }
+        due("no device", x.put(1, 0, 11, 1), false);
+        due("device -1", x.put(-1, 0, 11, 1), false);
+        due("kind 4", x.put(0, 4, 11, 1), false);
+        due("kind -1", x.put(0, -1, 11, 1), false);
+    }
+
+    private static void getValue() {
+        sentence("8: a place's value");
+        FieldLine x = withDevice();
+        x.device(8, 0);
+        for (int d = 0; d < 2; d++) {
+            for (int kind = 0; kind < 4; kind++) {
+                x.bank(d, kind, 10, 3);
+                x.put(d, kind, 10, 2 * d + kind);
+                x.put(d, kind, 12, 1 + 2 * d + kind);
+            }
+        }
+        for (int d = 0; d < 2; d++) {
+            for (int kind = 0; kind < 4; kind++) {
+                int mask = kind < 2 ? 1 : 65535;
+                due("the first", x.get(d, kind, 10), 2 * d + kind & mask);
+                due("the middle", x.get(d, kind, 11), 0);
+                due("the last", x.get(d, kind, 12), 1 + 2 * d + kind & mask);
+            }
+        }
+    }
+
+    private static void getWithoutPlace() {
+        sentence("8: NONE without one");
+        FieldLine x = withDevice();
+        int[] places = {9, 13, -1, LEAST, GREATEST};
+        for (int kind = 0; kind < 4; kind++) {
+            x.bank(0, kind, 10, 3);
+            for (int at : places) {
+                due("at " + at, x.get(0, kind, at), NONE);
+            }
+        }
+        due("no device", x.get(1, 0, 11), NONE);
+        due("device -1", x.get(-1, 0, 11), NONE);
+        due("kind 4", x.get(0, 4, 11), NONE);
+        due("kind -1", x.get(0, -1, 11), NONE);
+    }
+
+    private static void limits() {
+        limitsLeastAndGreatest();
+        limitsAllCount();
+        limitsOfRequestsAlone();
+        limitsEight();
+        limitsOfEachDevice();
+        limitPlaces();
+        limitBeyondTheLastPlace();
+        limitValues();
+        limitLowAndHigh();
+        limitWithoutDevice();
+    }
+
+    /** Whether a request may give a register this value. */
+    private static boolean mayBeGiven(FieldLine x, int at, int v) {
+        load(x, 6, at / 256, at % 256, v / 256, v % 256);
+        return x.serve(0) == 5;
+    }
+
+    private static void limitsLeastAndGreatest() {
+        sentence("Terms 2: LIMITS: the least and the greatest value that a REGISTER there may be given");
         FieldLine x = withDevice();
         x.bank(0, 2, 0, 10);
-        C.due("no device", x.limit(1, 0, 1, 0, 1), false);
-        C.due("from -1", x.limit(0, -1, 1, 0, 1), false);
-        C.due("from 65536", x.limit(0, 65536, 1, 0, 1), false);
-        C.due("n 0", x.limit(0, 0, 0, 0, 1), false);
-        C.due("n 65537", x.limit(0, 0, 65537, 0, 1), false);
-        C.due("beyond 65535", x.limit(0, 1, 65536, 0, 1), false);
-        C.due("low -1", x.limit(0, 0, 1, -1, 1), false);
-        C.due("high 65536", x.limit(0, 0, 1, 0, 65536), false);
-        C.due("low above high", x.limit(0, 0, 1, 2, 1), false);
-        C.served(x, 0, Check.bytes(6, 0, 3, 255, 255), 6, 0, 3, 255, 255);
-        C.due("a limit", x.limit(0, 2, 2, 10, 20), true);
-        C.due("one over it", x.limit(0, 3, 1, 0, 15), true);
-        C.due("one of all", x.limit(0, 0, 65536, 0, 65535), true);
-        C.refused(x, 0, 3, 6, 0, 2, 0, 9);
-        C.refused(x, 0, 3, 6, 0, 2, 0, 21);
-        C.served(x, 0, Check.bytes(6, 0, 2, 0, 20), 6, 0, 2, 0, 20);
-        C.refused(x, 0, 3, 6, 0, 3, 0, 16);
-        C.served(x, 0, Check.bytes(6, 0, 3, 0, 10), 6, 0, 3, 0, 10);
-        C.served(x, 0, Check.bytes(6, 0, 4, 0, 1), 6, 0, 4, 0, 1);
-        C.served(x, 0, Check.bytes(6, 0, 1, 0, 1), 6, 0, 1, 0, 1);
-        C.due("put is free of limits", x.put(0, 2, 2, 1), true);
-        for (int i = 3; i < 8; i++) {
-            C.due("limit " + i, x.limit(0, 9, 1, 5, 5), true);
+        due("limit", x.limit(0, 2, 3, 10, 20), true);
+        for (int at = 0; at < 10; at++) {
+            boolean limited = at >= 2 && at <= 4;
+            due("9 at " + at, mayBeGiven(x, at, 9), !limited);
+            due("10 at " + at, mayBeGiven(x, at, 10), true);
+            due("20 at " + at, mayBeGiven(x, at, 20), true);
+            due("21 at " + at, mayBeGiven(x, at, 21), !limited);
         }
-        C.due("a ninth", x.limit(0, 8, 1, 5, 5), false);
-        C.refused(x, 0, 3, 6, 0, 9, 0, 6);
-        C.served(x, 0, Check.bytes(6, 0, 8, 0, 6), 6, 0, 8, 0, 6);
     }
 
-    private static void fileAndRecord() {
+    private static void limitsAllCount() {
+        sentence("Terms 2: all that have the place count");
         FieldLine x = withDevice();
-        C.due("no device", x.file(1, 1, 1), false);
-        C.due("number 0", x.file(0, 0, 1), false);
-        C.due("number 65536", x.file(0, 65536, 1), false);
-        C.due("n 0", x.file(0, 1, 0), false);
-        C.due("n 121", x.file(0, 1, 121), false);
-        C.due("record without a file", x.record(0, 1, 0), -1);
-        C.due("file", x.file(0, 1, 120), true);
-        C.due("last value", x.record(0, 1, 119), 0);
-        C.due("no value behind", x.record(0, 1, 120), -1);
-        C.due("no value ahead", x.record(0, 1, -1), -1);
-        C.due("no such file", x.record(0, 2, 0), -1);
-        C.due("no such device", x.record(1, 1, 0), -1);
-        Check.load(x, 21, 9, 6, 0, 1, 0, 5, 0, 1, 2, 3);
-        x.serve(0);
-        C.due("written", x.record(0, 1, 5), 515);
-        Check.load(x, 21, 9, 6, 0, 1, 0, 0, 0, 1, 2, 3);
-        x.serve(0);
-        C.due("second", x.file(0, 65535, 1), true);
-        C.due("third", x.file(0, 3, 1), true);
-        C.due("fourth", x.file(0, 4, 1), true);
-        C.due("a fifth", x.file(0, 5, 1), false);
-        C.due("anew", x.file(0, 1, 6), true);
-        C.due("all 0", x.record(0, 1, 5), 0);
-        C.due("the first one, too", x.record(0, 1, 0), 0);
-        C.due("shorter", x.record(0, 1, 6), -1);
-    }
-
-    private static void queueAndPush() {
-        FieldLine x = withDevice();
-        C.due("no device", x.queue(1, 0), false);
-        C.due("at -1", x.queue(0, -1), false);
-        C.due("at 65536", x.queue(0, 65536), false);
-        C.due("push without one", x.push(0, 0, 1), -1);
-        C.due("queue", x.queue(0, 0), true);
-        C.due("the same", x.queue(0, 0), false);
-        C.due("second", x.queue(0, 65535), true);
-        C.due("third", x.queue(0, 2), true);
-        C.due("fourth", x.queue(0, 3), true);
-        C.due("a fifth", x.queue(0, 4), false);
-        C.due("push to no device", x.push(1, 0, 1), -1);
-        C.due("push", x.push(0, 0, 0x1FFFE), 1);
-        C.due("push a second", x.push(0, 0, -1), 2);
-        C.served(x, 0, Check.bytes(24, 0, 0), 24, 0, 6, 0, 2, 255, 254, 255, 255);
-        for (int i = 3; i <= 40; i++) {
-            C.due("push " + i, x.push(0, 0, i), i);
+        x.bank(0, 2, 0, 10);
+        x.limit(0, 2, 2, 10, 20);
+        x.limit(0, 3, 2, 15, 25);
+        int[] values = {9, 10, 14, 15, 20, 21, 25, 26};
+        for (int v : values) {
+            due(v + " at 2", mayBeGiven(x, 2, v), v >= 10 && v <= 20);
+            due(v + " at 3", mayBeGiven(x, 3, v), v >= 15 && v <= 20);
+            due(v + " at 4", mayBeGiven(x, 4, v), v >= 15 && v <= 25);
         }
-        C.due("push a 41st", x.push(0, 0, 1), -1);
     }
 
-    private static void name() {
+    private static void limitsOfRequestsAlone() {
+        sentence("Terms 2: may be given by a request");
         FieldLine x = withDevice();
-        int[] ids = {-1, 7, 127, 256};
+        x.bank(0, 2, 0, 10);
+        x.bank(0, 3, 0, 10);
+        x.limit(0, 0, 10, 5, 5);
+        due("put", x.put(0, 2, 0, 77), true);
+        due("its value", x.get(0, 2, 0), 77);
+        x.rule(0, 1, 0, 0, 0);
+        x.tick(1);
+        due("a gauge", x.get(0, 3, 0), 77);
+    }
+
+    private static void limitsEight() {
+        sentence("9: a LIMIT more (8 at most)");
+        FieldLine x = withDevice();
+        x.bank(0, 2, 0, 10);
+        for (int i = 0; i < 8; i++) {
+            due("limit " + i, x.limit(0, i, 1, 5, 5), true);
+        }
+        due("a ninth", x.limit(0, 8, 1, 5, 5), false);
+        due("the first counts", mayBeGiven(x, 0, 6), false);
+        due("the eighth counts", mayBeGiven(x, 7, 6), false);
+        due("the ninth doesn't", mayBeGiven(x, 8, 6), true);
+    }
+
+    private static void limitsOfEachDevice() {
+        sentence("9: a LIMIT more (of one device)");
+        FieldLine x = withDevice();
+        x.device(8, 0);
+        x.bank(0, 2, 0, 1);
+        for (int i = 0; i < 8; i++) {
+            x.limit(1, 0, 1, 5, 5);
+        }
+        due("the other one's don't count", mayBeGiven(x, 0, 6), true);
+        due("there is room", x.limit(0, 0, 1, 5, 5), true);
+    }
+
+    private static void limitPlaces() {
+        sentence("9: for n places from one on (1 to 65536 of them)");
+        FieldLine x = withDevice();
+        int[] wrong = {0, -1, 65537, LEAST, GREATEST};
+        for (int n : wrong) {
+            due("n " + n, x.limit(0, 0, n, 0, 1), false);
+        }
+        x.bank(0, 2, 65534, 2);
+        due("one", x.limit(0, 65534, 1, 0, 100), true);
+        due("the place behind is free", mayBeGiven(x, 65535, 101), true);
+        due("all", x.limit(0, 0, 65536, 0, 50), true);
+        due("the last place", mayBeGiven(x, 65535, 51), false);
+        x.bank(0, 2, 0, 1);
+        due("the first place", mayBeGiven(x, 0, 51), false);
+        due("as it may be", mayBeGiven(x, 0, 50), true);
+    }
+
+    private static void limitBeyondTheLastPlace() {
+        sentence("9: none beyond 65535");
+        FieldLine x = withDevice();
+        due("from -1", x.limit(0, -1, 1, 0, 1), false);
+        due("from least", x.limit(0, LEAST, 1, 0, 1), false);
+        due("from 65536", x.limit(0, 65536, 1, 0, 1), false);
+        due("from greatest", x.limit(0, GREATEST, 1, 0, 1), false);
+        due("65536 from 1", x.limit(0, 1, 65536, 0, 1), false);
+        due("two from 65535", x.limit(0, 65535, 2, 0, 1), false);
+        due("one from 65535", x.limit(0, 65535, 1, 0, 1), true);
+        due("65535 from 1", x.limit(0, 1, 65535, 0, 1), true);
+    }
+
+    private static void limitValues() {
+        sentence("9: low to high, both 0 to 65535");
+        FieldLine x = withDevice();
+        due("low -1", x.limit(0, 0, 1, -1, 1), false);
+        due("low least", x.limit(0, 0, 1, LEAST, 1), false);
+        due("both 65536", x.limit(0, 0, 1, 65536, 65536), false);
+        due("both -1", x.limit(0, 0, 1, -1, -1), false);
+        due("high 65536", x.limit(0, 0, 1, 0, 65536), false);
+        due("high greatest", x.limit(0, 0, 1, 0, GREATEST), false);
+        due("0 to 65535", x.limit(0, 0, 1, 0, 65535), true);
+        x.bank(0, 2, 0, 1);
+        due("0 may be given", mayBeGiven(x, 0, 0), true);
+        due("65535 may be given", mayBeGiven(x, 0, 65535), true);
+    }
+
+    private static void limitLowAndHigh() {
+        sentence("9: low not above high");
+        FieldLine x = withDevice();
+        x.bank(0, 2, 0, 1);
+        due("2 to 1", x.limit(0, 0, 1, 2, 1), false);
+        due("65535 to 0", x.limit(0, 0, 1, 65535, 0), false);
+        due("none came", mayBeGiven(x, 0, 9), true);
+        due("2 to 2", x.limit(0, 0, 1, 2, 2), true);
+        due("1", mayBeGiven(x, 0, 1), false);
+        due("2", mayBeGiven(x, 0, 2), true);
+        due("3", mayBeGiven(x, 0, 3), false);
+    }
+
+    private static void limitWithoutDevice() {
+        sentence("9: a LIMIT more (without a device)");
+        FieldLine x = withDevice();
+        due("device 1", x.limit(1, 0, 1, 0, 1), false);
+        due("device -1", x.limit(-1, 0, 1, 0, 1), false);
+    }
+
+    private static void files() {
+        fileValues();
+        fileMadeAnew();
+        fileNumbers();
+        filesFour();
+        fileWithoutDevice();
+        recordValue();
+        recordWithoutOne();
+    }
+
+    private static void writeRecord(FieldLine x, int number, int k, int v) {
+        load(x, 21, 9, 6, number / 256, number % 256, 0, k, 0, 1, v / 256, v % 256);
+        x.serve(0);
+    }
+
+    private static void fileValues() {
+        sentence("10: a file of n values (1 to 120), all 0");
+        FieldLine x = withDevice();
+        int[] wrong = {0, -1, 121, LEAST, GREATEST};
+        for (int n : wrong) {
+            due("n " + n, x.file(0, 1, n), false);
+        }
+        due("none came", x.record(0, 1, 0), NONE);
+        due("n 120", x.file(0, 1, 120), true);
+        for (int k = 0; k < 120; k++) {
+            due("value " + k, x.record(0, 1, k), 0);
+        }
+        due("none behind", x.record(0, 1, 120), NONE);
+        due("n 1", x.file(0, 2, 1), true);
+        due("its value", x.record(0, 2, 0), 0);
+        due("none behind", x.record(0, 2, 1), NONE);
+    }
+
+    private static void fileMadeAnew() {
+        sentence("10: one of that number is made anew");
+        FieldLine x = withDevice();
+        x.file(0, 1, 10);
+        writeRecord(x, 1, 0, 5);
+        writeRecord(x, 1, 5, 6);
+        writeRecord(x, 1, 9, 7);
+        due("shorter", x.file(0, 1, 6), true);
+        due("the first", x.record(0, 1, 0), 0);
+        due("the last", x.record(0, 1, 5), 0);
+        due("none behind", x.record(0, 1, 6), NONE);
+        due("longer", x.file(0, 1, 10), true);
+        due("the last", x.record(0, 1, 9), 0);
+    }
+
+    private static void fileNumbers() {
+        sentence("Terms 2: FILES (numbers 1 to 65535)");
+        FieldLine x = withDevice();
+        int[] wrong = {0, -1, 65536, LEAST, GREATEST};
+        for (int number : wrong) {
+            due("number " + number, x.file(0, number, 1), false);
+        }
+        due("number 1", x.file(0, 1, 1), true);
+        due("number 65535", x.file(0, 65535, 1), true);
+        due("its value", x.record(0, 65535, 0), 0);
+    }
+
+    private static void filesFour() {
+        sentence("Terms 2: FILES, at most 4");
+        FieldLine x = withDevice();
+        for (int number = 1; number <= 4; number++) {
+            due("file " + number, x.file(0, number, number), true);
+        }
+        due("a fifth", x.file(0, 5, 1), false);
+        due("none came", x.record(0, 5, 0), NONE);
+        due("the fourth anew", x.file(0, 4, 9), true);
+        due("its last value", x.record(0, 4, 8), 0);
+        x.device(8, 0);
+        due("another device has room", x.file(1, 5, 1), true);
+    }
+
+    private static void fileWithoutDevice() {
+        sentence("10: a file (without a device)");
+        FieldLine x = withDevice();
+        due("device 1", x.file(1, 1, 1), false);
+        due("device -1", x.file(-1, 1, 1), false);
+    }
+
+    private static void recordValue() {
+        sentence("11: value k of a file, from 0 on");
+        FieldLine x = withDevice();
+        x.file(0, 1, 3);
+        x.file(0, 300, 3);
+        writeRecord(x, 1, 0, 65535);
+        writeRecord(x, 1, 2, 515);
+        writeRecord(x, 300, 1, 256);
+        int[] want = {65535, 0, 515, 0, 256, 0};
+        for (int k = 0; k < 3; k++) {
+            due("value " + k, x.record(0, 1, k), want[k]);
+            due("value " + k + " of the other", x.record(0, 300, k), want[3 + k]);
+        }
+    }
+
+    private static void recordWithoutOne() {
+        sentence("11: NONE without one");
+        FieldLine x = withDevice();
+        x.file(0, 1, 3);
+        due("k -1", x.record(0, 1, -1), NONE);
+        due("k least", x.record(0, 1, LEAST), NONE);
+        due("k 3", x.record(0, 1, 3), NONE);
+        due("k greatest", x.record(0, 1, GREATEST), NONE);
+        due("no such file", x.record(0, 2, 0), NONE);
+        due("file 0", x.record(0, 0, 0), NONE);
+        due("no such device", x.record(1, 1, 0), NONE);
+        due("device -1", x.record(-1, 1, 0), NONE);
+    }
+
+    private static void queues() {
+        queuePlaces();
+        queueThatIsThere();
+        queuesFour();
+        queueWithoutDevice();
+        pushLowestBits();
+        pushIntoAFullOne();
+        pushWithoutQueue();
+    }
+
+    private static void queuePlaces() {
+        sentence("Terms 2: QUEUES at places 0 to 65535");
+        FieldLine x = withDevice();
+        int[] wrong = {-1, 65536, LEAST, GREATEST};
+        for (int at : wrong) {
+            due("at " + at, x.queue(0, at), false);
+            due("none came", x.push(0, at, 1), NONE);
+        }
+        due("at 0", x.queue(0, 0), true);
+        due("at 65535", x.queue(0, 65535), true);
+        due("push at 65535", x.push(0, 65535, 1), 1);
+        due("push at 0", x.push(0, 0, 1), 1);
+    }
+
+    private static void queueThatIsThere() {
+        sentence("12: false, too, if there is one");
+        FieldLine x = withDevice();
+        x.queue(0, 3);
+        x.push(0, 3, 9);
+        due("the same", x.queue(0, 3), false);
+        due("it stays", x.push(0, 3, 9), 2);
+        x.device(8, 0);
+        due("of another device", x.queue(1, 3), true);
+    }
+
+    private static void queuesFour() {
+        sentence("Terms 2: QUEUES (at most 4)");
+        FieldLine x = withDevice();
+        for (int at = 0; at < 4; at++) {
+            due("queue " + at, x.queue(0, at), true);
+        }
+        due("a fifth", x.queue(0, 4), false);
+        due("none came", x.push(0, 4, 1), NONE);
+        due("the fourth", x.push(0, 3, 1), 1);
+    }
+
+    private static void queueWithoutDevice() {
+        sentence("12: a new QUEUE (without a device)");
+        FieldLine x = withDevice();
+        due("device 1", x.queue(1, 0), false);
+        due("device -1", x.queue(-1, 0), false);
+    }
+
+    private static void pushLowestBits() {
+        sentence("13: v's lowest 16 bits come into a QUEUE: how many it has");
+        FieldLine x = withDevice();
+        x.queue(0, 0);
+        due("push", x.push(0, 0, 0x1FFFE), 1);
+        due("push", x.push(0, 0, -1), 2);
+        due("push", x.push(0, 0, 65536), 3);
+        due("push", x.push(0, 0, LEAST), 4);
+        served(x, 0, bytes(24, 0, 0), 24, 0, 10, 0, 4, 255, 254, 255, 255, 0, 0, 0, 0);
+    }
+
+    private static void pushIntoAFullOne() {
+        sentence("13: NONE: it has 40");
+        FieldLine x = withDevice();
+        x.queue(0, 0);
+        x.queue(0, 1);
+        for (int i = 1; i <= 40; i++) {
+            due("push " + i, x.push(0, 0, i), i);
+        }
+        due("a 41st", x.push(0, 0, 1), NONE);
+        due("the other one", x.push(0, 1, 1), 1);
+    }
+
+    private static void pushWithoutQueue() {
+        sentence("13: NONE: there is none");
+        FieldLine x = withDevice();
+        due("no queue", x.push(0, 0, 1), NONE);
+        x.queue(0, 5);
+        due("at 4", x.push(0, 4, 1), NONE);
+        due("at 6", x.push(0, 6, 1), NONE);
+        due("at -1", x.push(0, -1, 1), NONE);
+        due("no device", x.push(1, 5, 1), NONE);
+        due("device -1", x.push(-1, 5, 1), NONE);
+    }
+
+    private static void texts() {
+        nameTakesTheTape();
+        nameOfFortyBytes();
+        nameOfNoBytes();
+        nameInPlace();
+        nameIds();
+        namesTen();
+        nameWithoutDevice();
+    }
+
+    private static void nameTakesTheTape() {
+        sentence("14: a text is the TAPE (empty then)");
+        FieldLine x = withDevice();
+        due("name", name(x, 0, 0, 65, 0, 255), true);
+        tapeIs(x, "behind it");
+        served(x, 0, bytes(43, 14, 4, 0), 43, 14, 4, 129, 0, 0, 1, 0, 3, 65, 0, 255);
+    }
+
+    private static void nameOfFortyBytes() {
+        sentence("14: 40 bytes at most");
+        FieldLine x = withDevice();
+        int[] long1 = repeat(65, 41);
+        due("41 bytes", name(x, 0, 0, long1), false);
+        tapeIs(x, "the tape stays", long1);
+        due("400 bytes", name(x, 0, 0, repeat(65, 400)), false);
+        refused(x, 0, 2, 43, 14, 4, 0);
+        due("40 bytes", name(x, 0, 0, repeat(65, 40)), true);
+        served(x, 0, bytes(43, 14, 4, 0), join(bytes(43, 14, 4, 129, 0, 0, 1, 0, 40), repeat(65, 40)));
+    }
+
+    private static void nameOfNoBytes() {
+        sentence("Terms 2: TEXTS of 0 to 40 bytes");
+        FieldLine x = withDevice();
+        due("0 bytes", x.name(0, 0), true);
+        served(x, 0, bytes(43, 14, 4, 0), 43, 14, 4, 129, 0, 0, 1, 0, 0);
+    }
+
+    private static void nameInPlace() {
+        sentence("14: in place of one of that id");
+        FieldLine x = withDevice();
+        name(x, 0, 1, 65, 66, 67);
+        due("a shorter one", name(x, 0, 1, 70), true);
+        served(x, 0, bytes(43, 14, 3, 0), 43, 14, 3, 129, 0, 0, 1, 1, 1, 70);
+    }
+
+    private static void nameIds() {
+        sentence("Terms 2: TEXTS by ids: 0 to 6 and 128 to 255");
+        FieldLine x = withDevice();
+        int[] wrong = {-1, 7, 127, 256, LEAST, GREATEST};
+        load(x, 65);
+        for (int id : wrong) {
+            due("id " + id, x.name(0, id), false);
+        }
+        tapeIs(x, "behind these", 65);
+        int[] right = {0, 6, 128, 255};
+        for (int id : right) {
+            due("id " + id, name(x, 0, id, id), true);
+            served(x, 0, bytes(43, 14, 4, id), 43, 14, 4, id > 6 ? 131 : id > 2 ? 130 : 129, 0, 0, 1, id, 1, id);
+        }
+    }
+
+    private static void namesTen() {
+        sentence("Terms 2: TEXTS, at most 10");
+        FieldLine x = withDevice();
+        int[] ids = {0, 1, 2, 3, 4, 5, 6, 128, 129, 130};
         for (int id : ids) {
-            C.due("id " + id, x.name(0, id), false);
+            due("id " + id, name(x, 0, id, 9), true);
         }
-        C.due("no device", x.name(1, 0), false);
-        Check.load(x, Check.repeat(65, 41));
-        C.due("41 bytes", x.name(0, 0), false);
-        C.due("the tape stays", x.state(14), 41);
-        x.end(40);
-        C.due("40 bytes", x.name(0, 0), true);
-        C.due("the tape is empty", x.state(14), 0);
-        C.served(x, 0, Check.bytes(43, 14, 4, 0),
-                Check.join(Check.bytes(43, 14, 4, 129, 0, 0, 1, 0, 40), Check.repeat(65, 40)));
-        C.due("0 bytes in its place", x.name(0, 0), true);
-        C.served(x, 0, Check.bytes(43, 14, 4, 0), 43, 14, 4, 129, 0, 0, 1, 0, 0);
-        int[] more = {1, 6, 128, 255, 200, 2, 3, 4, 5};
-        for (int id : more) {
-            C.due("id " + id, x.name(0, id), true);
-        }
-        C.due("an eleventh", x.name(0, 129), false);
-        C.due("one of the ten again", x.name(0, 255), true);
+        due("an eleventh", name(x, 0, 131, 9), false);
+        tapeIs(x, "the tape stays", 9);
+        refused(x, 0, 2, 43, 14, 4, 131);
+        due("the tenth again", name(x, 0, 130, 8), true);
+        served(x, 0, bytes(43, 14, 4, 130), 43, 14, 4, 131, 0, 0, 1, 130, 1, 8);
+    }
+
+    private static void nameWithoutDevice() {
+        sentence("14: a text (without a device)");
+        FieldLine x = withDevice();
+        due("device 1", name(x, 1, 0, 65), false);
+        tapeIs(x, "the tape stays", 65);
+        due("device -1", x.name(-1, 0), false);
+        due("device 0", x.name(0, 0), true);
     }
 
     private static void busy() {
+        busyCounts();
+        busyForNine();
+        busyInPlace();
+        busyWithoutDevice();
+    }
+
+    private static void busyCounts() {
+        sentence("16: BUSY for the next n that it would serve");
         FieldLine x = withDevice();
-        C.due("no device", x.busy(1, 1), false);
-        C.due("-1", x.busy(0, -1), false);
-        C.due("10", x.busy(0, 10), false);
-        C.due("9", x.busy(0, 9), true);
-        C.due("counter(0, 11)", x.counter(0, 11), 9);
-        C.due("2 in its place", x.busy(0, 2), true);
-        C.refused(x, 0, 6, 17);
-        C.refused(x, 0, 6, 99);
-        C.due("counter(0, 11)", x.counter(0, 11), 0);
-        C.due("counter(0, 6)", x.counter(0, 6), 2);
-        C.served(x, 0, Check.bytes(17), 17, 2, 0, 255);
-        x.busy(0, 1);
-        C.due("0", x.busy(0, 0), true);
-        C.served(x, 0, Check.bytes(17), 17, 2, 0, 255);
+        due("busy", x.busy(0, 2), true);
+        refused(x, 0, 6, 17);
+        counters(x, 0, "once", 11, 1, 6, 1);
+        refused(x, 0, 6, 99);
+        counters(x, 0, "twice", 11, 0, 6, 2);
+        served(x, 0, bytes(17), 17, 2, 0, 255);
+        counters(x, 0, "not any more", 11, 0, 6, 2);
+    }
+
+    private static void busyForNine() {
+        sentence("16: n (0 to 9)");
+        FieldLine x = withDevice();
+        int[] wrong = {-1, 10, LEAST, GREATEST};
+        for (int n : wrong) {
+            due("n " + n, x.busy(0, n), false);
+        }
+        counters(x, 0, "behind these", 11, 0);
+        due("n 9", x.busy(0, 9), true);
+        counters(x, 0, "nine", 11, 9);
+        due("n 0", x.busy(0, 0), true);
+        served(x, 0, bytes(17), 17, 2, 0, 255);
+    }
+
+    private static void busyInPlace() {
+        sentence("16: in place of what was told");
+        FieldLine x = withDevice();
+        x.busy(0, 5);
+        due("busy", x.busy(0, 1), true);
+        counters(x, 0, "one", 11, 1);
+        due("more", x.busy(0, 7), true);
+        counters(x, 0, "seven", 11, 7);
+    }
+
+    private static void busyWithoutDevice() {
+        sentence("16: a device is BUSY (without a device)");
+        FieldLine x = withDevice();
+        due("device 1", x.busy(1, 1), false);
+        due("device -1", x.busy(-1, 1), false);
+        counters(x, 0, "the other one", 11, 0);
     }
 }

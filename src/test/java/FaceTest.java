@@ -5,7 +5,7 @@ import java.lang.reflect.Modifier;
 import java.util.TreeSet;
 
 /** The public face is the document's, with nothing beside it. */
-public final class FaceTest {
+public final class FaceTest extends Check {
     private static final String[] FACE = {
         "int feed(int,int,int,int,int)", "int end(int)", "int sum()", "int device(int,int)",
         "boolean bank(int,int,int,int)", "boolean put(int,int,int,int)", "int get(int,int,int)",
@@ -18,31 +18,31 @@ public final class FaceTest {
         "int counter(int,int)", "int event(int,int)", "int sent(int)"};
 
     public static void main(String[] args) {
-        Check c = new Check("FaceTest");
+        sentence("The public face");
         TreeSet<String> want = new TreeSet<>(java.util.Arrays.asList(FACE));
         TreeSet<String> names = new TreeSet<>();
         for (Method m : FieldLine.class.getDeclaredMethods()) {
             if (Modifier.isPublic(m.getModifiers())) {
-                c.due("a method of the face: " + face(m), want.remove(face(m)), true);
+                due("a method of the face: " + face(m), want.remove(face(m)), true);
                 names.add(m.getName());
             }
         }
-        c.due("methods that are missing: " + want, want.size(), 0);
+        due("methods that are missing: " + want, want.size(), 0);
         for (Method m : FieldLine.class.getDeclaredMethods()) {
             boolean isPublic = Modifier.isPublic(m.getModifiers());
-            c.due(m + " is public or private", isPublic || Modifier.isPrivate(m.getModifiers()), true);
-            c.due(m + " has its own name", isPublic || !names.contains(m.getName()), true);
+            due(m + " is public or private", isPublic || Modifier.isPrivate(m.getModifiers()), true);
+            due(m + " has its own name", isPublic || !names.contains(m.getName()), true);
         }
         for (Field f : FieldLine.class.getDeclaredFields()) {
             boolean right = f.getName().equals("NONE") || Modifier.isPrivate(f.getModifiers());
-            c.due(f + " is private", right, true);
+            due(f + " is private", right, true);
         }
         for (Constructor<?> k : FieldLine.class.getDeclaredConstructors()) {
-            c.due(k + " is the public one", Modifier.isPublic(k.getModifiers()) && k.getParameterCount() == 0, true);
+            due(k + " is the public one", Modifier.isPublic(k.getModifiers()) && k.getParameterCount() == 0, true);
         }
-        c.due("the class is final", Modifier.isFinal(FieldLine.class.getModifiers()), true);
-        c.due("NONE", FieldLine.NONE, -1);
-        c.end();
+        due("the class is final", Modifier.isFinal(FieldLine.class.getModifiers()), true);
+        due("NONE", FieldLine.NONE, -1);
+        end("FaceTest");
     }
 
     private static String face(Method m) {

@@ -1,17 +1,36 @@
-/** Promise 15: rules, each 20 ticks. */
-public final class RulesTest {
-    private static final Check C = new Check("RulesTest");
+/** Promise 15 and part 4 of the terms: rules, each 20 ticks. */
+public final class RulesTest extends Check {
+    private static final int COIL = 0;
+    private static final int CONTACT = 1;
+    private static final int REGISTER = 2;
+    private static final int GAUGE = 3;
 
     public static void main(String[] args) {
-        calls();
+        ruleKinds();
+        ruleNumbers();
+        ruleNumbersAsTheyAre();
+        rulesTwelve();
+        ruleWithoutDevice();
         whenTheyAct();
-        kinds();
-        lastPlaces();
-        missingPlaces();
-        queueGoesRound();
-        C.end();
+        inOrder();
+        gaugeGoesRound();
+        gaugeIsRegister();
+        gaugeGoesToRegister();
+        contactIfAbove();
+        coilIfContact();
+        coilResetsGauge();
+        gaugeComesIntoQueue();
+        fullQueue();
+        firstAndLastPlaces();
+        missingGauge();
+        missingRegister();
+        missingContact();
+        missingCoil();
+        missingQueue();
+        end("RulesTest");
     }
 
+    /** A device whose banks have the places 10 to 19. */
     private static FieldLine line() {
         FieldLine x = new FieldLine();
         x.device(5, 0);
@@ -21,151 +40,355 @@ public final class RulesTest {
         return x;
     }
 
-    private static void calls() {
+    private static void ruleKinds() {
+        sentence("15: of kind 0 to 6");
         FieldLine x = line();
-        C.due("no device", x.rule(1, 0, 0, 0, 0), false);
-        C.due("kind -1", x.rule(0, -1, 0, 0, 0), false);
-        C.due("kind 7", x.rule(0, 7, 0, 0, 0), false);
-        C.due("a -1", x.rule(0, 0, -1, 0, 0), false);
-        C.due("b 65536", x.rule(0, 0, 0, 65536, 0), false);
-        C.due("c 65536", x.rule(0, 2, 0, 0, 65536), false);
-        C.due("all 0", x.rule(0, 0, 0, 0, 0), true);
-        for (int i = 1; i < 12; i++) {
-            C.due("rule " + i, x.rule(0, i % 7, 65535, 65535, 65535), true);
+        int[] wrong = {-1, 7, Integer.MIN_VALUE, Integer.MAX_VALUE};
+        for (int kind : wrong) {
+            due("kind " + kind, x.rule(0, kind, 10, 1, 10), false);
         }
-        C.due("a thirteenth", x.rule(0, 0, 0, 0, 0), false);
+        for (int kind = 0; kind <= 6; kind++) {
+            due("kind " + kind, x.rule(0, kind, 0, 0, 0), true);
+        }
         x.tick(1);
-        C.due("the first place stays", x.get(0, 3, 10), 0);
+        due("the wrong ones don't act", x.get(0, GAUGE, 10), 0);
+    }
+
+    private static void ruleNumbers() {
+        sentence("15: a, b, c 0 to 65535");
+        FieldLine x = line();
+        int[] wrong = {-1, 65536, Integer.MIN_VALUE, Integer.MAX_VALUE};
+        for (int v : wrong) {
+            due("a " + v, x.rule(0, 3, v, 0, 0), false);
+            due("b " + v, x.rule(0, 3, 0, v, 0), false);
+            due("c " + v, x.rule(0, 3, 0, 0, v), false);
+        }
+        due("all 0", x.rule(0, 3, 0, 0, 0), true);
+        due("all 65535", x.rule(0, 3, 65535, 65535, 65535), true);
+    }
+
+    private static void ruleNumbersAsTheyAre() {
+        sentence("15: n as they are; of 0: a, n; of 2: a, b, n");
+        FieldLine x = line();
+        x.rule(0, 0, 10, 65535, 3);
+        x.rule(0, 2, 11, 10, 65535);
+        x.rule(0, 2, 12, 10, 0);
+        x.put(0, REGISTER, 10, 65535);
+        x.tick(1);
+        due("65535 more", x.get(0, GAUGE, 10), 65535);
+        due("by 65535 at most", x.get(0, GAUGE, 11), 65535);
+        due("by 0 at most", x.get(0, GAUGE, 12), 0);
+    }
+
+    private static void rulesTwelve() {
+        sentence("Terms 4: RULES of a device (at most 12)");
+        FieldLine x = line();
+        x.device(6, 0);
+        for (int i = 0; i < 12; i++) {
+            due("rule " + i, x.rule(0, 0, 10, 1, 0), true);
+        }
+        due("a thirteenth", x.rule(0, 0, 10, 1, 0), false);
+        due("another device has room", x.rule(1, 0, 10, 1, 0), true);
+        x.tick(1);
+        due("twelve acted", x.get(0, GAUGE, 10), 12);
+    }
+
+    private static void ruleWithoutDevice() {
+        sentence("15: a rule more (without a device)");
+        FieldLine x = line();
+        due("device 1", x.rule(1, 0, 10, 1, 0), false);
+        due("device -1", x.rule(-1, 0, 10, 1, 0), false);
     }
 
     private static void whenTheyAct() {
+        sentence("Terms 1: if T is a multiple of 20: for each device, in order, its RULES");
         FieldLine x = line();
+        x.device(6, 0);
+        x.bank(1, GAUGE, 0, 1);
         x.rule(0, 0, 10, 1, 0);
+        x.rule(1, 0, 0, 2, 0);
+        due("ahead", x.get(0, GAUGE, 10), 0);
         x.tick(1);
-        C.due("at 0", x.get(0, 3, 10), 1);
+        due("T 0", x.get(0, GAUGE, 10), 1);
+        due("T 0, the second device", x.get(1, GAUGE, 0), 2);
         x.tick(19);
-        C.due("at 20", x.get(0, 3, 10), 1);
+        due("T 19", x.get(0, GAUGE, 10), 1);
         x.tick(1);
-        C.due("behind 20", x.get(0, 3, 10), 2);
+        due("T 20", x.get(0, GAUGE, 10), 2);
         x.tick(1000);
-        C.due("behind 1020", x.get(0, 3, 10), 52);
+        due("T 1020", x.get(0, GAUGE, 10), 52);
+        due("T 1020, the second device", x.get(1, GAUGE, 0), 104);
+        FieldLine late = line();
+        late.tick(1);
+        late.rule(0, 0, 10, 1, 0);
+        late.tick(19);
+        due("told behind T 0", late.get(0, GAUGE, 10), 0);
+        late.tick(1);
+        due("told behind T 0, at T 20", late.get(0, GAUGE, 10), 1);
     }
 
-    private static void kinds() {
+    private static void inOrder() {
+        sentence("Terms 4: RULES of a device, in order");
         FieldLine x = line();
-        x.rule(0, 0, 10, 65535, 0);
-        x.rule(0, 1, 11, 12, 0);
-        x.rule(0, 2, 13, 14, 5);
-        x.rule(0, 2, 15, 14, 5);
-        x.rule(0, 3, 16, 17, 18);
-        x.rule(0, 4, 18, 19, 0);
-        x.put(0, 3, 10, 3);
-        x.put(0, 2, 12, 777);
-        x.put(0, 2, 14, 8);
-        x.put(0, 3, 15, 20);
-        x.put(0, 3, 16, 5);
-        x.put(0, 2, 17, 5);
-        x.put(0, 1, 18, 1);
+        x.rule(0, 0, 10, 7, 0);
+        x.rule(0, 3, 10, 10, 10);
+        x.rule(0, 4, 10, 10, 0);
+        x.rule(0, 5, 10, 10, 0);
         x.tick(1);
-        C.due("kind 0 goes round", x.get(0, 3, 10), 2);
-        C.due("kind 1", x.get(0, 3, 11), 777);
-        C.due("kind 2 up", x.get(0, 3, 13), 5);
-        C.due("kind 2 down", x.get(0, 3, 15), 15);
-        C.due("kind 3, not above", x.get(0, 1, 18), 0);
-        C.due("kind 4, no", x.get(0, 0, 19), 0);
-        x.put(0, 3, 16, 6);
-        x.tick(20);
-        C.due("kind 2 up to it", x.get(0, 3, 13), 8);
-        C.due("kind 2 down", x.get(0, 3, 15), 10);
-        C.due("kind 3, above", x.get(0, 1, 18), 1);
-        C.due("kind 4, yes", x.get(0, 0, 19), 1);
-        x.put(0, 3, 16, 0);
-        x.tick(20);
-        C.due("kind 2 down to it", x.get(0, 3, 15), 8);
-        C.due("kind 3, not above any more", x.get(0, 1, 18), 0);
-        C.due("kind 4 takes no coil back", x.get(0, 0, 19), 1);
-        resetsAndQueues();
-    }
-
-    private static void resetsAndQueues() {
-        FieldLine x = line();
-        x.queue(0, 3);
-        x.rule(0, 6, 10, 3, 11);
-        x.rule(0, 5, 11, 10, 0);
-        x.put(0, 3, 10, 99);
-        x.tick(1);
-        C.due("kind 5 without the coil", x.get(0, 3, 10), 99);
-        x.put(0, 0, 11, 1);
-        x.tick(20);
-        C.due("kind 5, the gauge", x.get(0, 3, 10), 0);
-        C.due("kind 5, the coil", x.get(0, 0, 11), 0);
-        x.tick(20);
-        C.due("kind 6, once", x.push(0, 3, 1), 2);
-        C.served(x, 0, Check.bytes(24, 0, 3), 24, 0, 6, 0, 2, 0, 99, 0, 1);
-    }
-
-    private static void lastPlaces() {
-        FieldLine x = line();
-        x.queue(0, 65535);
-        x.put(0, 2, 19, 30);
-        x.rule(0, 0, 19, 7, 0);
-        x.rule(0, 3, 19, 19, 19);
-        x.rule(0, 4, 19, 19, 0);
-        x.rule(0, 6, 19, 65535, 19);
-        x.tick(81);
-        C.due("the gauge", x.get(0, 3, 19), 35);
-        C.due("the contact", x.get(0, 1, 19), 1);
-        C.due("the coil", x.get(0, 0, 19), 1);
-        C.served(x, 0, Check.bytes(24, 255, 255), 24, 0, 4, 0, 1, 0, 35);
-        x.rule(0, 5, 19, 19, 0);
-        x.tick(20);
-        C.due("the gauge", x.get(0, 3, 19), 0);
-        C.due("the coil", x.get(0, 0, 19), 0);
+        due("the contact", x.get(0, CONTACT, 10), 1);
+        due("the coil", x.get(0, COIL, 10), 0);
+        due("the gauge", x.get(0, GAUGE, 10), 0);
         FieldLine y = line();
-        y.put(0, 2, 19, 30);
-        y.rule(0, 2, 19, 19, 4);
+        y.rule(0, 5, 10, 10, 0);
+        y.rule(0, 4, 10, 10, 0);
+        y.rule(0, 3, 10, 10, 10);
+        y.rule(0, 0, 10, 7, 0);
         y.tick(1);
-        C.due("kind 2", y.get(0, 3, 19), 4);
-        y.rule(0, 1, 19, 19, 0);
-        y.tick(20);
-        C.due("kind 1", y.get(0, 3, 19), 30);
+        due("the other way round, the contact", y.get(0, CONTACT, 10), 0);
+        due("the other way round, the gauge", y.get(0, GAUGE, 10), 7);
     }
 
-    private static void missingPlaces() {
+    private static void gaugeGoesRound() {
+        sentence("Terms 4: 0 a, n: GAUGE a is n more (it goes round)");
         FieldLine x = line();
-        x.queue(0, 3);
-        x.rule(0, 5, 11, 9, 0);
-        x.rule(0, 5, 9, 10, 0);
-        x.rule(0, 1, 10, 20, 0);
-        x.rule(0, 2, 10, 9, 5);
-        x.rule(0, 3, 9, 10, 12);
-        x.rule(0, 3, 10, 20, 14);
-        x.rule(0, 4, 9, 13, 0);
-        x.rule(0, 6, 9, 3, 11);
-        x.rule(0, 6, 10, 3, 9);
-        x.rule(0, 6, 10, 4, 11);
-        x.put(0, 0, 11, 1);
-        x.put(0, 1, 12, 1);
-        x.put(0, 3, 10, 44);
+        int[][] cases = {{65534, 1, 65535}, {65535, 1, 0}, {65535, 65535, 65534}, {1, 65535, 0}, {0, 65535, 65535}};
+        for (int i = 0; i < cases.length; i++) {
+            x.put(0, GAUGE, 10 + i, cases[i][0]);
+            x.rule(0, 0, 10 + i, cases[i][1], 0);
+        }
         x.tick(1);
-        C.due("the gauge stays", x.get(0, 3, 10), 44);
-        C.due("the coil stays", x.get(0, 0, 11), 1);
-        C.due("the contact stays", x.get(0, 1, 12), 1);
-        C.due("the contact of a missing register stays", x.get(0, 1, 14), 0);
-        C.due("the other coil stays", x.get(0, 0, 13), 0);
-        C.due("the queue stays", x.push(0, 3, 1), 1);
+        for (int i = 0; i < cases.length; i++) {
+            due(cases[i][0] + " and " + cases[i][1], x.get(0, GAUGE, 10 + i), cases[i][2]);
+        }
     }
 
-    private static void queueGoesRound() {
+    private static void gaugeIsRegister() {
+        sentence("Terms 4: 1 a, b: GAUGE a is REGISTER b");
+        FieldLine x = line();
+        x.put(0, REGISTER, 12, 65535);
+        x.rule(0, 1, 11, 12, 0);
+        x.tick(1);
+        due("65535", x.get(0, GAUGE, 11), 65535);
+        due("the register stays", x.get(0, REGISTER, 12), 65535);
+        x.put(0, REGISTER, 12, 0);
+        x.tick(20);
+        due("0", x.get(0, GAUGE, 11), 0);
+    }
+
+    private static void gaugeGoesToRegister() {
+        sentence("Terms 4: 2 a, b, n: GAUGE a goes to REGISTER b by n at most");
+        int[][] cases = {{0, 100, 99, 99}, {0, 100, 100, 100}, {0, 100, 101, 100}, {100, 0, 99, 1}, {100, 0, 100, 0},
+            {100, 0, 101, 0}, {7, 7, 5, 7}, {65535, 0, 1, 65534}, {0, 65535, 65535, 65535}, {65530, 65535, 9, 65535}};
+        FieldLine x = line();
+        for (int i = 0; i < cases.length; i++) {
+            x.put(0, GAUGE, 10 + i, cases[i][0]);
+            x.put(0, REGISTER, 10 + i, cases[i][1]);
+            x.rule(0, 2, 10 + i, 10 + i, cases[i][2]);
+        }
+        x.tick(1);
+        for (int i = 0; i < cases.length; i++) {
+            due("from " + cases[i][0] + " to " + cases[i][1] + " by " + cases[i][2],
+                    x.get(0, GAUGE, 10 + i), cases[i][3]);
+        }
+    }
+
+    private static void contactIfAbove() {
+        sentence("Terms 4: 3 a, b, c: CONTACT c is 1 if GAUGE a is above REGISTER b, else 0");
+        FieldLine x = line();
+        int[][] cases = {{5, 5, 0}, {6, 5, 1}, {4, 5, 0}, {65535, 0, 1}, {0, 65535, 0}, {0, 0, 0}};
+        for (int i = 0; i < cases.length; i++) {
+            x.put(0, GAUGE, 10 + i, cases[i][0]);
+            x.put(0, REGISTER, 10 + i, cases[i][1]);
+            x.put(0, CONTACT, 10 + i, 1 - cases[i][2]);
+            x.rule(0, 3, 10 + i, 10 + i, 10 + i);
+        }
+        x.tick(1);
+        for (int i = 0; i < cases.length; i++) {
+            due(cases[i][0] + " and " + cases[i][1], x.get(0, CONTACT, 10 + i), cases[i][2]);
+        }
+    }
+
+    private static void coilIfContact() {
+        sentence("Terms 4: 4 a, b: COIL b is 1 if CONTACT a is");
+        FieldLine x = line();
+        x.rule(0, 4, 10, 11, 0);
+        x.rule(0, 4, 12, 13, 0);
+        x.put(0, CONTACT, 10, 1);
+        x.tick(1);
+        due("the contact is 1", x.get(0, COIL, 11), 1);
+        due("the contact is 0", x.get(0, COIL, 13), 0);
+        due("no other coil", x.get(0, COIL, 10), 0);
+        x.put(0, CONTACT, 10, 0);
+        x.tick(20);
+        due("not any more: the coil stays", x.get(0, COIL, 11), 1);
+    }
+
+    private static void coilResetsGauge() {
+        sentence("Terms 4: 5 a, b: if COIL a is 1, it is 0, GAUGE b 0");
+        FieldLine x = line();
+        x.rule(0, 5, 11, 12, 0);
+        x.put(0, GAUGE, 12, 99);
+        x.tick(1);
+        due("the coil is 0", x.get(0, GAUGE, 12), 99);
+        x.put(0, COIL, 11, 1);
+        x.put(0, COIL, 12, 1);
+        x.tick(20);
+        due("the gauge", x.get(0, GAUGE, 12), 0);
+        due("the coil", x.get(0, COIL, 11), 0);
+        due("another coil", x.get(0, COIL, 12), 1);
+    }
+
+    private static void gaugeComesIntoQueue() {
+        sentence("Terms 4: 6 a, b, c: if COIL c is 1, GAUGE a comes into QUEUE b");
         FieldLine x = line();
         x.queue(0, 3);
-        x.rule(0, 0, 10, 1, 0);
+        x.queue(0, 4);
         x.rule(0, 6, 10, 3, 11);
-        x.put(0, 0, 11, 1);
-        x.tick(820);
-        C.due("push into a full one", x.push(0, 3, 1), -1);
-        C.due("the gauge", x.get(0, 3, 10), 41);
-        x.put(0, 0, 11, 0);
-        C.refused(x, 0, 3, 24, 0, 3);
+        x.put(0, GAUGE, 10, 65535);
+        x.tick(1);
+        served(x, 0, bytes(24, 0, 3), 24, 0, 2, 0, 0);
+        x.put(0, COIL, 11, 1);
+        x.tick(20);
+        x.put(0, GAUGE, 10, 7);
+        x.tick(20);
+        served(x, 0, bytes(24, 0, 3), 24, 0, 6, 0, 2, 255, 255, 0, 7);
+        served(x, 0, bytes(24, 0, 4), 24, 0, 2, 0, 0);
+        due("the gauge stays", x.get(0, GAUGE, 10), 7);
+        due("the coil stays", x.get(0, COIL, 11), 1);
+    }
+
+    private static void fullQueue() {
+        sentence("Terms 4: of 40 the oldest goes");
+        FieldLine x = line();
+        x.queue(0, 3);
+        x.rule(0, 6, 10, 3, 11);
+        x.put(0, COIL, 11, 1);
+        x.tick(39 * 20);
+        due("39, one more goes in", x.push(0, 3, 1), 40);
+        x.tick(20);
+        due("still 40", x.push(0, 3, 1), NONE);
+        x.tick(1000);
+        due("still 40 later", x.push(0, 3, 1), NONE);
+        refused(x, 0, 3, 24, 0, 3);
+    }
+
+    private static void firstAndLastPlaces() {
+        sentence("Terms 4: a rule with a place (the first one, the last one)");
+        for (int at = 10; at <= 19; at += 9) {
+            FieldLine x = line();
+            x.queue(0, 65535);
+            x.put(0, REGISTER, at, 30);
+            x.rule(0, 0, at, 35, 0);
+            x.rule(0, 3, at, at, at);
+            x.rule(0, 4, at, at, 0);
+            x.rule(0, 6, at, 65535, at);
+            x.rule(0, 2, at, at, 4);
+            x.tick(1);
+            due("kind 2 at " + at, x.get(0, GAUGE, at), 31);
+            due("kind 3 at " + at, x.get(0, CONTACT, at), 1);
+            due("kind 4 at " + at, x.get(0, COIL, at), 1);
+            served(x, 0, bytes(24, 255, 255), 24, 0, 4, 0, 1, 0, 35);
+            x.rule(0, 5, at, at, 0);
+            x.tick(20);
+            due("kind 5 at " + at, x.get(0, GAUGE, at) + x.get(0, COIL, at), 0);
+            x.rule(0, 1, at, at, 0);
+            x.tick(20);
+            due("kind 1 at " + at, x.get(0, GAUGE, at), 30);
+        }
+    }
+
+    private static void missingGauge() {
+        sentence("Terms 4: a rule with a place that isn't there does nothing (a GAUGE)");
+        int[] places = {9, 20};
+        for (int at : places) {
+            FieldLine x = line();
+            x.queue(0, 3);
+            x.put(0, COIL, 11, 1);
+            x.put(0, CONTACT, 12, 1);
+            x.rule(0, 0, at, 5, 0);
+            x.rule(0, 1, at, 10, 0);
+            x.rule(0, 2, at, 10, 5);
+            x.rule(0, 3, at, 10, 12);
+            x.rule(0, 5, 11, at, 0);
+            x.rule(0, 6, at, 3, 11);
+            x.tick(1);
+            due("kind 0: none came", x.get(0, GAUGE, at), NONE);
+            due("kind 0: the first one", x.get(0, GAUGE, 10), 0);
+            due("kind 0: the last one", x.get(0, GAUGE, 19), 0);
+            due("kind 3: the contact", x.get(0, CONTACT, 12), 1);
+            due("kind 5: the coil", x.get(0, COIL, 11), 1);
+            due("kind 6: the queue", x.push(0, 3, 1), 1);
+        }
+    }
+
+    private static void missingRegister() {
+        sentence("Terms 4: a rule with a place that isn't there does nothing (a REGISTER)");
+        int[] places = {9, 20};
+        for (int at : places) {
+            FieldLine x = line();
+            x.put(0, GAUGE, 10, 44);
+            x.put(0, GAUGE, 11, 45);
+            x.rule(0, 1, 10, at, 0);
+            x.rule(0, 2, 11, at, 5);
+            x.rule(0, 3, 10, at, 12);
+            x.tick(1);
+            due("kind 1: the gauge", x.get(0, GAUGE, 10), 44);
+            due("kind 2: the gauge", x.get(0, GAUGE, 11), 45);
+            due("kind 3: the contact", x.get(0, CONTACT, 12), 0);
+        }
+    }
+
+    private static void missingContact() {
+        sentence("Terms 4: a rule with a place that isn't there does nothing (a CONTACT)");
+        int[] places = {9, 20};
+        for (int at : places) {
+            FieldLine x = line();
+            for (int near = 10; near < 20; near++) {
+                x.put(0, CONTACT, near, 1);
+            }
+            x.put(0, GAUGE, 10, 0);
+            x.rule(0, 3, 10, 10, at);
+            x.rule(0, 4, at, 13, 0);
+            x.tick(1);
+            due("kind 3: the first contact", x.get(0, CONTACT, 10), 1);
+            due("kind 3: the last contact", x.get(0, CONTACT, 19), 1);
+            due("kind 4: the coil", x.get(0, COIL, 13), 0);
+        }
+    }
+
+    private static void missingCoil() {
+        sentence("Terms 4: a rule with a place that isn't there does nothing (a COIL)");
+        int[] places = {9, 20};
+        for (int at : places) {
+            FieldLine x = line();
+            x.queue(0, 3);
+            for (int near = 11; near < 19; near++) {
+                x.put(0, COIL, near, 1);
+            }
+            x.put(0, CONTACT, 10, 1);
+            x.put(0, GAUGE, 10, 44);
+            x.rule(0, 4, 10, at, 0);
+            x.rule(0, 5, at, 10, 0);
+            x.rule(0, 6, 10, 3, at);
+            x.tick(1);
+            due("kind 4: the first coil", x.get(0, COIL, 10), 0);
+            due("kind 4: the last coil", x.get(0, COIL, 19), 0);
+            due("kind 5: the gauge", x.get(0, GAUGE, 10), 44);
+            due("kind 6: the queue", x.push(0, 3, 1), 1);
+        }
+    }
+
+    private static void missingQueue() {
+        sentence("Terms 4: a rule with a QUEUE that isn't there does nothing");
+        FieldLine x = line();
+        x.queue(0, 3);
+        x.put(0, COIL, 10, 1);
+        x.rule(0, 6, 10, 4, 10);
+        x.tick(1);
+        due("the other queue", x.push(0, 3, 1), 1);
+        due("none came", x.push(0, 4, 1), NONE);
+        x.queue(0, 4);
+        x.tick(20);
+        due("it is there now", x.push(0, 4, 1), 2);
     }
 }
