@@ -228,20 +228,20 @@ public final class DiagnosesTest extends Check {
     private static void fullLog() {
         sentence("Terms 2: a LOG of the latest 64 EVENTS");
         FieldLine x = line();
-        for (int k = 0; k < 70; k++) {
+        for (int k = 0; k < 66; k++) {
             load(x, 8, 0, eventOf(k) == 4 ? 4 : 1, 0, 0);
             x.serve(0);
             counters(x, 0, "events", 10, Math.min(k + 1, 64));
             due("the latest", x.event(0, 0), eventOf(k));
         }
         for (int k = 0; k < 64; k++) {
-            due("event " + k, x.event(0, k), eventOf(69 - k));
+            due("event " + k, x.event(0, k), eventOf(65 - k));
         }
         due("none older", x.event(0, 64), NONE);
         load(x, 12);
         due("all are told", x.serve(0), 72);
         due("how many bytes", x.answer(1), 70);
-        due("the oldest", x.answer(71), eventOf(6));
+        due("the oldest", x.answer(71), eventOf(2));
     }
 
     private static void whoItIs() {

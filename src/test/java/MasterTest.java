@@ -183,12 +183,14 @@ public final class MasterTest extends Check {
         sentence("Terms 5: numbered from 0 on as they come");
         FieldLine x = line(0);
         x.settings(1, 20, 0);
-        for (int i = 0; i < 60; i++) {
+        for (int i = 0; i < 40; i++) {
             due("request " + i, request(x, 0, 17), i);
             x.tick(32);
             due("its result", x.result(0), i);
             due("its attempts", x.result(3), 1);
             due("take", x.take(), true);
+            due("no more", x.result(0), NONE);
+            due("no byte of it", dataThrows(x, 0), true);
         }
     }
 

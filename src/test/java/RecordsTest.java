@@ -317,6 +317,7 @@ public final class RecordsTest extends Check {
         textsFromAnId();
         textsFromTheLeast();
         textsWhole();
+        textsTen();
         textsNone();
         textAlone();
         textAloneWithout();
@@ -390,14 +391,14 @@ public final class RecordsTest extends Check {
 
     private static void textsFromTheLeast() {
         sentence("Terms 3: 43: from the least one, if there is no text of that id among these");
-        FieldLine x = named(255, 6, 3, 2, 128, 1);
-        int[] first = {43, 14, 1, 131, 0, 0, 2, 1, 1, 1, 2, 1, 2};
-        int[] notFirst = {0, 3, 6, 7, 128, 255};
+        FieldLine x = named(255, 6, 3, 2, 128, 0);
+        int[] first = {43, 14, 1, 131, 0, 0, 2, 0, 1, 0, 2, 1, 2};
+        int[] notFirst = {1, 3, 6, 7, 128, 255};
         for (int id : notFirst) {
             served(x, 0, bytes(43, 14, 1, id), first);
         }
-        int[] second = {43, 14, 2, 131, 0, 0, 4, 1, 1, 1, 2, 1, 2, 3, 1, 3, 6, 1, 6};
-        int[] notSecond = {0, 4, 7, 128, 255};
+        int[] second = {43, 14, 2, 131, 0, 0, 4, 0, 1, 0, 2, 1, 2, 3, 1, 3, 6, 1, 6};
+        int[] notSecond = {1, 4, 7, 128, 255};
         for (int id : notSecond) {
             served(x, 0, bytes(43, 14, 2, id), second);
         }
@@ -432,6 +433,16 @@ public final class RecordsTest extends Check {
         due("from the second on", x.serve(0), 7 + 4 * 41 + 42 + 3);
         due("no more would come", x.answer(4), 0);
         due("no id", x.answer(5), 0);
+    }
+
+    private static void textsTen() {
+        sentence("Terms 3: 43: all (3): as many as go whole (the ten that there may be)");
+        int[] ids = {0, 1, 2, 3, 4, 5, 6, 128, 200, 255};
+        int[] want = {43, 14, 3, 131, 0, 0, 10};
+        for (int id : ids) {
+            want = join(want, bytes(id, 1, id));
+        }
+        served(named(ids), 0, bytes(43, 14, 3, 0), want);
     }
 
     private static void textsNone() {

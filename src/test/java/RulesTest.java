@@ -21,6 +21,7 @@ public final class RulesTest extends Check {
         coilResetsGauge();
         gaugeComesIntoQueue();
         fullQueue();
+        nothingElse();
         firstAndLastPlaces();
         missingGauge();
         missingRegister();
@@ -270,6 +271,63 @@ public final class RulesTest extends Check {
         x.tick(1000);
         due("still 40 later", x.push(0, 3, 1), NONE);
         refused(x, 0, 3, 24, 0, 3);
+    }
+
+    /** Banks of the places 0 to 9: bits alike, registers from 100 on, gauges from a value on; queues at 1 to 3. */
+    private static FieldLine filledLine(int bit, int gauge) {
+        FieldLine x = new FieldLine();
+        x.device(5, 0);
+        for (int at = 1; at <= 3; at++) {
+            x.queue(0, at);
+        }
+        int[] first = {bit, bit, 100, gauge};
+        for (int kind = 0; kind < 4; kind++) {
+            x.bank(0, kind, 0, 10);
+            for (int at = 0; at < 10; at++) {
+                x.put(0, kind, at, kind < 2 ? bit : first[kind] + at);
+            }
+        }
+        return x;
+    }
+
+    private static void nothingElse() {
+        sentence("Terms 4: (what each rule changes of all places and queues)");
+        for (int bit = 0; bit < 2; bit++) {
+            for (int gauge = 0; gauge <= 200; gauge += 200) {
+                int nearer = gauge + 1 < 102 ? gauge + 4 : gauge - 2;
+                int above = gauge + 1 > 102 ? 1 : 0;
+                changes(bit, gauge, 0, GAUGE, 1, gauge + 3);
+                changes(bit, gauge, 1, GAUGE, 1, 102);
+                changes(bit, gauge, 2, GAUGE, 1, nearer);
+                changes(bit, gauge, 3, CONTACT, 3, above);
+                changes(bit, gauge, 4, COIL, 2, bit);
+                changes(bit, gauge, 5, GAUGE, 2, bit == 1 ? 0 : gauge + 2);
+                changes(bit, gauge, 6, GAUGE, 1, gauge + 1);
+            }
+        }
+    }
+
+    /** Of a rule 1, 2, 3 this place has this value then; of kinds 5 and 6 coil 1 and queue 2 change, too. */
+    private static void changes(int bit, int gauge, int rule, int bank, int place, int v) {
+        FieldLine x = filledLine(bit, gauge);
+        FieldLine before = filledLine(bit, gauge);
+        x.rule(0, rule, 1, 2, 3);
+        x.tick(1);
+        before.put(0, bank, place, v);
+        if (rule == 5) {
+            before.put(0, COIL, 1, 0);
+        }
+        if (rule == 6 && bit == 1) {
+            before.push(0, 2, gauge + 1);
+        }
+        for (int at = 0; at < 10; at++) {
+            for (int kind = 0; kind < 4; kind++) {
+                due("rule " + rule + ", kind " + kind + " at " + at, x.get(0, kind, at), before.get(0, kind, at));
+            }
+        }
+        for (int at = 1; at <= 3; at++) {
+            due("rule " + rule + ", queue " + at, x.push(0, at, 0), before.push(0, at, 0));
+        }
     }
 
     private static void firstAndLastPlaces() {

@@ -457,13 +457,18 @@ public final class ServeTest extends Check {
     private static void coilsAreSet() {
         sentence("Terms 3: 15: COILS; 15, from, n");
         FieldLine x = line();
-        x.put(0, 0, 102, 1);
-        x.put(0, 0, 111, 1);
-        served(x, 0, bytes(15, 0, 101, 0, 10, 2, 0x05, 0xFE), 15, 0, 101, 0, 10);
-        int[] want = {0, 1, 0, 1, 0, 0, 0, 0, 0, 0, 1, 1};
+        int[] ones = {100, 102, 111};
+        for (int at : ones) {
+            x.put(0, 0, at, 1);
+        }
+        served(x, 0, bytes(15, 0, 101, 0, 10, 2, 0x85, 0x02), 15, 0, 101, 0, 10);
+        int[] want = {1, 1, 0, 1, 0, 0, 0, 0, 1, 0, 1, 1};
         for (int i = 0; i < want.length; i++) {
             due("coil " + (100 + i), x.get(0, 0, 100 + i), want[i]);
         }
+        served(x, 0, bytes(15, 0, 113, 0, 3, 1, 255), 15, 0, 113, 0, 3);
+        due("the coil ahead of these", x.get(0, 0, 112), 0);
+        due("the coil behind these", x.get(0, 0, 116), 0);
         served(x, 0, bytes(15, 0, 119, 0, 1, 1, 255), 15, 0, 119, 0, 1);
         due("the last coil", x.get(0, 0, 119), 1);
         served(x, 0, bytes(15, 0, 100, 0, 20, 3, 255, 255, 255), 15, 0, 100, 0, 20);
@@ -636,7 +641,8 @@ public final class ServeTest extends Check {
         due("the register", x.get(0, 2, 104), 0x17);
         echoed(x, 0, 22, 0, 104, 0, 0, 0, 0x16);
         echoed(x, 0, 22, 0, 104, 0, 0, 0, 0x18);
-        echoed(x, 0, 22, 0, 104, 255, 255, 0, 0);
+        echoed(x, 0, 22, 0, 104, 0, 255, 0, 255 - 0x18);
+        refused(x, 0, 3, 22, 0, 104, 0, 255, 1, 0);
         due("the register", x.get(0, 2, 104), 0x18);
     }
 
