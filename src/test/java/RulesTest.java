@@ -28,6 +28,7 @@ public final class RulesTest extends Check {
         missingContact();
         missingCoil();
         missingQueue();
+        missingBehindAFullBank();
         end("RulesTest");
     }
 
@@ -273,18 +274,18 @@ public final class RulesTest extends Check {
         refused(x, 0, 3, 24, 0, 3);
     }
 
-    /** Banks of the places 0 to 9: bits alike, registers from 100 on, gauges from a value on; queues at 1 to 3. */
-    private static FieldLine filledLine(int bit, int gauge) {
+    /** Banks of the places 0 to 9: coils and contacts alike, registers from 100 on, gauges from a value on; queues. */
+    private static FieldLine filledLine(int coil, int contact, int gauge) {
         FieldLine x = new FieldLine();
         x.device(5, 0);
         for (int at = 1; at <= 3; at++) {
             x.queue(0, at);
         }
-        int[] first = {bit, bit, 100, gauge};
+        int[] first = {coil, contact, 100, gauge};
         for (int kind = 0; kind < 4; kind++) {
             x.bank(0, kind, 0, 10);
             for (int at = 0; at < 10; at++) {
-                x.put(0, kind, at, kind < 2 ? bit : first[kind] + at);
+                x.put(0, kind, at, kind < 2 ? first[kind] : first[kind] + at);
             }
         }
         return x;
@@ -292,41 +293,45 @@ public final class RulesTest extends Check {
 
     private static void nothingElse() {
         sentence("Terms 4: (what each rule changes of all places and queues)");
-        for (int bit = 0; bit < 2; bit++) {
+        for (int bits = 0; bits < 4; bits++) {
             for (int gauge = 0; gauge <= 200; gauge += 200) {
-                int nearer = gauge + 1 < 102 ? gauge + 4 : gauge - 2;
-                int above = gauge + 1 > 102 ? 1 : 0;
-                changes(bit, gauge, 0, GAUGE, 1, gauge + 3);
-                changes(bit, gauge, 1, GAUGE, 1, 102);
-                changes(bit, gauge, 2, GAUGE, 1, nearer);
-                changes(bit, gauge, 3, CONTACT, 3, above);
-                changes(bit, gauge, 4, COIL, 2, bit);
-                changes(bit, gauge, 5, GAUGE, 2, bit == 1 ? 0 : gauge + 2);
-                changes(bit, gauge, 6, GAUGE, 1, gauge + 1);
+                for (int rule = 0; rule <= 6; rule++) {
+                    changes(rule, bits % 2, bits / 2, gauge);
+                }
             }
         }
     }
 
-    /** Of a rule 1, 2, 3 this place has this value then; of kinds 5 and 6 coil 1 and queue 2 change, too. */
-    private static void changes(int bit, int gauge, int rule, int bank, int place, int v) {
-        FieldLine x = filledLine(bit, gauge);
-        FieldLine before = filledLine(bit, gauge);
+    /** Two lines are alike, of which one has a rule 1, 2, 3 and the other is changed by hand. */
+    private static void changes(int rule, int coil, int contact, int gauge) {
+        FieldLine x = filledLine(coil, contact, gauge);
         x.rule(0, rule, 1, 2, 3);
         x.tick(1);
-        before.put(0, bank, place, v);
-        if (rule == 5) {
-            before.put(0, COIL, 1, 0);
-        }
-        if (rule == 6 && bit == 1) {
-            before.push(0, 2, gauge + 1);
-        }
+        FieldLine y = filledLine(coil, contact, gauge);
+        changeByHand(y, rule, coil, contact, gauge);
         for (int at = 0; at < 10; at++) {
             for (int kind = 0; kind < 4; kind++) {
-                due("rule " + rule + ", kind " + kind + " at " + at, x.get(0, kind, at), before.get(0, kind, at));
+                due("rule " + rule + ", kind " + kind + " at " + at, x.get(0, kind, at), y.get(0, kind, at));
             }
         }
         for (int at = 1; at <= 3; at++) {
-            due("rule " + rule + ", queue " + at, x.push(0, at, 0), before.push(0, at, 0));
+            due("rule " + rule + ", queue " + at, x.push(0, at, 0), y.push(0, at, 0));
+        }
+    }
+
+    private static void changeByHand(FieldLine y, int rule, int coil, int contact, int gauge) {
+        boolean above = gauge + 1 > 102;
+        switch (rule) {
+            case 0: y.put(0, GAUGE, 1, gauge + 1 + 2); break;
+            case 1: y.put(0, GAUGE, 1, 102); break;
+            case 2: y.put(0, GAUGE, 1, above ? gauge + 1 - 3 : gauge + 1 + 3); break;
+            case 3: y.put(0, CONTACT, 3, above ? 1 : 0); break;
+            case 4: y.put(0, COIL, 2, contact == 1 ? 1 : coil); break;
+            case 5: y.put(0, COIL, 1, 0); y.put(0, GAUGE, 2, coil == 1 ? 0 : gauge + 2); break;
+            default:
+                if (coil == 1) {
+                    y.push(0, 2, gauge + 1);
+                }
         }
     }
 
@@ -448,5 +453,29 @@ public final class RulesTest extends Check {
         x.queue(0, 4);
         x.tick(20);
         due("it is there now", x.push(0, 4, 1), 2);
+    }
+
+    private static void missingBehindAFullBank() {
+        sentence("Terms 4: a rule with a place that isn't there does nothing (behind a bank of 400)");
+        FieldLine x = new FieldLine();
+        x.device(5, 0);
+        x.queue(0, 3);
+        for (int kind = 0; kind < 4; kind++) {
+            x.bank(0, kind, 0, 400);
+            x.put(0, kind, 0, 1);
+            x.put(0, kind, 399, 1);
+        }
+        int[][] rules = {{0, 400, 5, 0}, {1, 400, 0, 0}, {1, 0, 400, 0}, {2, 400, 0, 5}, {3, 0, 0, 400}, {3, 400, 0, 0},
+            {4, 0, 400, 0}, {5, 0, 400, 0}, {5, 400, 0, 0}, {6, 400, 3, 0}, {6, 0, 3, 400}};
+        for (int[] rule : rules) {
+            x.rule(0, rule[0], rule[1], rule[2], rule[3]);
+        }
+        x.tick(1);
+        for (int kind = 0; kind < 4; kind++) {
+            due("the first place of kind " + kind, x.get(0, kind, 0), 1);
+            due("the last place of kind " + kind, x.get(0, kind, 399), 1);
+            due("none behind", x.get(0, kind, 400), NONE);
+        }
+        due("the queue", x.push(0, 3, 1), 1);
     }
 }
