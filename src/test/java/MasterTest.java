@@ -183,15 +183,17 @@ public final class MasterTest extends Check {
         sentence("Terms 5: numbered from 0 on as they come");
         FieldLine x = line(0);
         x.settings(1, 20, 0);
-        for (int i = 0; i < 40; i++) {
+        // More requests than the rows of requests and results hold together: none finds traces of a former one.
+        for (int i = 0; i < 60; i++) {
             due("request " + i, request(x, 0, 17), i);
             x.tick(32);
             due("its result", x.result(0), i);
             due("its attempts", x.result(3), 1);
             due("take", x.take(), true);
-            due("no more", x.result(0), NONE);
-            due("no byte of it", dataThrows(x, 0), true);
         }
+        states(x, "none is left", 5, 0, 6, 0, 7, 0);
+        x.tick(100);
+        states(x, "none is sent again", 3, 0, 16, 60);
     }
 
     private static void requestStays() {
@@ -603,6 +605,7 @@ public final class MasterTest extends Check {
         dataBytes();
         dataWithoutOne();
         takeFirst();
+        takeMany();
         resultsInOrder();
         resultsFull();
     }
@@ -707,6 +710,19 @@ public final class MasterTest extends Check {
         due("the second", x.take(), true);
         due("no more", x.take(), false);
         states(x, "none", 7, 0);
+    }
+
+    private static void takeMany() {
+        sentence("26: the first RESULT goes (of more than are kept at once)");
+        FieldLine x = line(0);
+        for (int i = 0; i < 40; i++) {
+            request(x, 5, 17);
+            x.tick(100);
+            due("take", x.take(), true);
+            due("result(0)", x.result(0), NONE);
+            due("data(0) throws", dataThrows(x, 0), true);
+        }
+        due("no more", x.take(), false);
     }
 
     private static void resultsInOrder() {

@@ -50,6 +50,8 @@ public final class RecordsTest extends Check {
         served(x, 0, pdu(20, part(1, 8, 2), part(300, 119, 1), part(1, 0, 1)),
                 20, 14, 5, 6, 1, 8, 1, 9, 3, 6, 0, 0, 3, 6, 1, 0);
         served(x, 0, pdu(20, part(300, 0, 120)), join(bytes(20, 242, 241, 6), repeat(0, 240)));
+        x.queue(0, 7 * 256 + 6);
+        served(x, 0, pdu(20, part(1, 0, 1)), 20, 4, 3, 6, 1, 0);
     }
 
     private static void readNothing() {
