@@ -10,6 +10,9 @@ public final class ScansTest extends Check {
         inOrderAheadOfSending();
         timeLater();
         formerInTheRow();
+        formerJustGone();
+        formerGoesLater();
+        roomTaken();
         noRoom();
         roomForOne();
         requestLikeOthers();
@@ -173,6 +176,97 @@ public final class ScansTest extends Check {
         states(x, "the wire is idle", 16, 3);
         due("its address", x.sent(0), 50);
         due("it had the number 2", request(x, 0, 17), 3);
+    }
+
+    /** Ways in which a scan's request goes from the row: its address, its function, the ticks from its coming to its going. */
+    private static final int[][] WAYS = {
+        {0, 17, 65},   // DONE at TURN
+        {50, 17, 75},  // FAILED at TIMEOUT
+        {5, 17, 71},   // DONE by an answer
+        {5, 99, 63},   // REFUSED
+    };
+    /** How many requests went before: none, some, as many as RESULTS are kept, more than that. */
+    private static final int[] BEFORE = {0, 5, 32, 39};
+
+    /** A line whose row is full: its first request is a scan's, which goes in the next tick. */
+    private static FieldLine fullRow(int[] way, int before, int every) {
+        FieldLine x = line();
+        for (int i = 0; i < before; i++) {
+            request(x, 0, 17);
+            x.tick(31);
+        }
+        x.settings(1, 60, 50);
+        scan(x, every, way[0], way[1]);
+        x.tick(every + 1);
+        for (int i = 1; i <= 15; i++) {
+            due("a request behind the scan's", request(x, 0, 17), before + i);
+        }
+        x.tick(way[2] - 1);
+        states(x, "the row is full", 5, 16, 6, 1, 7, Math.min(before, 32));
+        due("a request without room", request(x, 0, 17), NONE);
+        return x;
+    }
+
+    private static String wayName(int[] way, int before) {
+        return "function " + way[1] + " to " + way[0] + " behind " + before;
+    }
+
+    private static void formerJustGone() {
+        sentence("Terms 5: if the scan's former one is not in the row any more (the first one of 16, just gone)");
+        for (int[] way : WAYS) {
+            for (int before : BEFORE) {
+                String name = wayName(way, before);
+                FieldLine x = fullRow(way, before, way[2] + 1);
+                x.tick(1);
+                states(x, name + ": it is gone", 5, 15, 7, Math.min(before + 1, 32), 8, Math.max(before - 31, 0));
+                x.tick(1);
+                states(x, name + ": the next one came", 5, 16);
+                due(name + ": a request without room", request(x, 0, 17), NONE);
+                x.settings(1, 60, 0);
+                for (int i = 0; i < 32; i++) {
+                    x.take();
+                }
+                x.tick(1000);
+                for (int i = 1; i <= 16; i++) {
+                    due(name + ": number", x.result(0), before + i);
+                    due(name + ": address", x.result(5), i < 16 ? 0 : way[0]);
+                    x.take();
+                }
+            }
+        }
+    }
+
+    private static void formerGoesLater() {
+        sentence("Terms 5: if the scan's former one is not in the row any more (it goes later in the same tick)");
+        for (int[] way : WAYS) {
+            for (int before : BEFORE) {
+                String name = wayName(way, before);
+                FieldLine x = fullRow(way, before, way[2]);
+                x.tick(1);
+                states(x, name + ": it is gone", 5, 15);
+                x.tick(1);
+                states(x, name + ": none came", 5, 15);
+                due(name + ": the next number", request(x, 0, 17), before + 16);
+            }
+        }
+    }
+
+    private static void roomTaken() {
+        sentence("Terms 5: and there is room (the former one's was taken by another)");
+        for (int[] way : WAYS) {
+            for (int before : BEFORE) {
+                String name = wayName(way, before);
+                FieldLine x = fullRow(way, before, way[2] + 2);
+                x.tick(1);
+                due(name + ": a request in its room", request(x, 0, 17), before + 16);
+                x.tick(2);
+                states(x, name + ": no room", 5, 16);
+                x.settings(1, 60, 0);
+                x.tick(20);
+                states(x, name + ": the next one is gone", 5, 15);
+                due(name + ": the next number", request(x, 0, 17), before + 17);
+            }
+        }
     }
 
     private static void noRoom() {
