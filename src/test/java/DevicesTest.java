@@ -418,6 +418,13 @@ public final class DevicesTest extends Check {
         x.bank(0, 2, 0, 1);
         due("0 may be given", mayBeGiven(x, 0, 0), true);
         due("65535 may be given", mayBeGiven(x, 0, 65535), true);
+        due("65535 to 65535", x.limit(0, 0, 1, 65535, 65535), true);
+        due("65534 may not be given", mayBeGiven(x, 0, 65534), false);
+        due("65535 may be given", mayBeGiven(x, 0, 65535), true);
+        x.bank(0, 2, 1, 1);
+        due("0 to 0", x.limit(0, 1, 1, 0, 0), true);
+        due("1 may not be given", mayBeGiven(x, 1, 1), false);
+        due("0 may be given", mayBeGiven(x, 1, 0), true);
     }
 
     private static void limitLowAndHigh() {

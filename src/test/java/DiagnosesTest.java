@@ -12,6 +12,7 @@ public final class DiagnosesTest extends Check {
         restartValues();
         silence();
         counterKinds();
+        countersOfTwoBytes();
         clearedCounters();
         clearedOverruns();
         zeroKindsWhole();
@@ -144,6 +145,32 @@ public final class DiagnosesTest extends Check {
         load(x, 8, 0, 10, 0, 0);
         x.serve(0);
         served(x, 0, bytes(8, 0, 11, 0, 0), 8, 0, 11, 0, 0);
+    }
+
+    private static void countersOfTwoBytes() {
+        sentence("Terms 3: counters: two bytes each");
+        FieldLine x = line();
+        x.settings(1, 200, 0);
+        int[][] pdus = {{5, 99}, {5, 8, 0, 0}, {0, 99}};
+        for (int[] pdu : pdus) {
+            load(x, java.util.Arrays.copyOfRange(pdu, 1, pdu.length));
+            x.scan(180, pdu[0]);
+        }
+        for (int i = 0; i < 55; i++) {
+            x.busy(0, 5);
+            x.tick(1000);
+        }
+        x.busy(0, 0);
+        load(x, 12);
+        x.serve(0);
+        due("counter 8 in 12", x.answer(4) * 256 + x.answer(5), x.counter(0, 8));
+        due("counter 0 in 12", x.answer(6) * 256 + x.answer(7), x.counter(0, 0));
+        int[] counted = {0, 2, 3, 4, 6};
+        for (int k : counted) {
+            int want = x.counter(0, k);
+            due("counter " + k + " has two bytes", want > 256 && want % 256 != want / 256, true);
+            served(x, 0, bytes(8, 0, 11 + k, 0, 0), 8, 0, 11 + k, want / 256, want % 256);
+        }
     }
 
     private static void clearedCounters() {

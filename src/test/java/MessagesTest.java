@@ -307,6 +307,13 @@ public final class MessagesTest extends Check {
             events(x, 0, "refused with " + code, 65, 128);
             due("the code", x.sent(2), code);
         }
+        int[] functions = {0, 126, 127, 128, 134, 255};
+        for (int f : functions) {
+            FieldLine y = line(0);
+            ask(y, 5, f);
+            counters(y, 0, "function " + f, 2, 1, 4, 0);
+            events(y, 0, "function " + f, 65, 128);
+        }
     }
 
     private static void busyRefusalCounts() {
@@ -316,10 +323,25 @@ public final class MessagesTest extends Check {
         ask(x, 5, 17);
         counters(x, 0, "busy", 2, 1, 3, 1, 4, 0, 6, 1, 8, 0, 11, 0);
         events(x, 0, "busy", 68, 128);
+        FieldLine y = line(0);
+        y.busy(0, 1);
+        ask(y, 5, 99);
+        counters(y, 0, "busy", 2, 1, 6, 1);
+        events(y, 0, "busy, whatever the function", 68, 128);
     }
 
     private static void anotherReply() {
         sentence("Terms 3: another REPLY: EVENT 64");
+        for (int coils = 0; coils < 8; coils++) {
+            FieldLine y = line(0);
+            for (int at = 0; at < 3; at++) {
+                y.put(0, 0, at, coils >> at);
+            }
+            ask(y, 5, 7);
+            due("two bytes came", y.sent(2), coils);
+            counters(y, 0, "two bytes that are no refusal", 2, 0, 3, 1, 4, 0, 8, 1);
+            events(y, 0, "two bytes that are no refusal", 64, 128);
+        }
         FieldLine x = line(0);
         ask(x, 5, 8, 0, 1, 255, 0);
         counters(x, 0, "a restart", 0, 0, 2, 0, 3, 0, 4, 0, 8, 0);

@@ -233,6 +233,11 @@ public final class ServeTest extends Check {
         served(x, 0, bytes(f, 0, 100, 0, 10), f, 2, 129, 2);
         served(x, 0, bytes(f, 0, 100, 0, 16), f, 2, 129, 6);
         served(x, 0, bytes(f, 0, 107, 0, 13), f, 2, 13, 0);
+        for (int at = 100; at < 120; at++) {
+            x.put(0, f - 1, at, 1);
+        }
+        served(x, 0, bytes(f, 0, 100, 0, 19), f, 3, 255, 255, 7);
+        served(x, 0, bytes(f, 0, 101, 0, 3), f, 1, 7);
     }
 
     private static void readBitsWhole(int f) {
@@ -590,6 +595,15 @@ public final class ServeTest extends Check {
         due("none is written", x.get(0, 2, 117), 77);
         served(x, 0, bytes(16, 0, 117, 0, 3, 6, 9, 9, 0, 9, 9, 9), 16, 0, 117, 0, 3);
         due("within the limit", x.get(0, 2, 118), 9);
+        int[] outside = {4, 10};
+        for (int v : outside) {
+            refused(x, 0, 3, 16, 0, 118, 0, 2, 4, 0, v, 0, 5);
+            refused(x, 0, 3, 16, 0, 118, 0, 1, 2, 0, v);
+            refused(x, 0, 3, 16, 0, 116, 0, 3, 6, 0, 5, 0, 5, 0, v);
+        }
+        due("none is written", x.get(0, 2, 119), 2313);
+        served(x, 0, bytes(16, 0, 119, 0, 1, 2, 0, 1), 16, 0, 119, 0, 1);
+        served(x, 0, bytes(16, 0, 116, 0, 2, 4, 0, 1, 0, 99), 16, 0, 116, 0, 2);
     }
 
     private static void mask() {
@@ -719,5 +733,14 @@ public final class ServeTest extends Check {
         refused(x, 0, 3, 23, 0, 100, 0, 1, 0, 101, 0, 2, 4, 0, 9, 0, 2);
         due("none is written", x.get(0, 2, 101), 0);
         served(x, 0, bytes(23, 0, 101, 0, 2, 0, 101, 0, 2, 4, 0, 9, 0, 5), 23, 4, 0, 9, 0, 5);
+        int[] outside = {2, 6};
+        for (int v : outside) {
+            refused(x, 0, 3, 23, 0, 100, 0, 1, 0, 102, 0, 2, 4, 0, v, 0, 4);
+            refused(x, 0, 3, 23, 0, 100, 0, 1, 0, 102, 0, 1, 2, 0, v);
+            refused(x, 0, 3, 23, 0, 100, 0, 1, 0, 100, 0, 3, 6, 0, 4, 0, 4, 0, v);
+        }
+        due("none is written", x.get(0, 2, 103), 0);
+        served(x, 0, bytes(23, 0, 102, 0, 2, 0, 103, 0, 1, 2, 0, 1), 23, 4, 0, 5, 0, 1);
+        served(x, 0, bytes(23, 0, 102, 0, 1, 0, 100, 0, 2, 4, 0, 1, 0, 99), 23, 2, 0, 5);
     }
 }

@@ -327,6 +327,7 @@ public final class WireTest extends Check {
         endsAtFourteen();
         lostBytesAreSilence();
         lateBytesAreSilence();
+        silenceWhileADeviceSends();
         emptyRowEndsNothing();
         rowIsEmptyThen();
     }
@@ -382,6 +383,44 @@ public final class WireTest extends Check {
         y.tick(14);
         counters(y, 0, "that ends, too", 14, 0, 1, 2);
         events(y, 0, "two bad frames", 130, 130);
+    }
+
+    private static void silenceWhileADeviceSends() {
+        sentence("Terms 1: f. QUIET of each station is one more, of all but who sends in e");
+        for (int d = 0; d < 3; d++) {
+            for (int late = 6; late <= 7; late++) {
+                FieldLine x = threeDevices();
+                request(x, 5 + d, 17);
+                x.harm(4 + 2, 256 + late);
+                x.tick(ENDED + 12 + late);
+                states(x, "the device sends", 1, 2 + d);
+                for (int other = 0; other < 3; other++) {
+                    boolean hears = other != d;
+                    counters(x, other, "late by " + late, 14, hears ? 3 : 0, 15, hears && late > 6 ? 1 : 0);
+                }
+                x.tick(16 + 14);
+                result(x, "at the master", late > 6 ? 2 : 0, late > 6 ? 2 : 0, 1, late > 6 ? 0 : 4);
+            }
+            FieldLine y = threeDevices();
+            request(y, 5 + d, 17);
+            for (int i = 2; i < 6; i++) {
+                y.harm(4 + i, 256);
+            }
+            y.tick(ENDED + 8 + 13);
+            states(y, "thirteen while the device sends", 1, 2 + d, 7, 0);
+            counters(y, (d + 1) % 3, "thirteen", 1, 0, 14, 2);
+            counters(y, (d + 2) % 3, "thirteen", 1, 0, 14, 2);
+            y.tick(1);
+            states(y, "fourteen while the device sends", 1, 2 + d, 7, 1);
+            counters(y, (d + 1) % 3, "fourteen", 1, 1, 14, 0);
+            counters(y, (d + 2) % 3, "fourteen", 1, 1, 14, 0);
+        }
+    }
+
+    private static FieldLine threeDevices() {
+        FieldLine x = line(0);
+        x.device(7, 0);
+        return x;
     }
 
     private static void emptyRowEndsNothing() {
