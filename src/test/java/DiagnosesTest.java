@@ -151,12 +151,12 @@ public final class DiagnosesTest extends Check {
         sentence("Terms 3: counters: two bytes each");
         FieldLine x = line();
         x.settings(1, 200, 0);
-        int[][] pdus = {{5, 99}, {5, 8, 0, 0}, {0, 99}};
+        int[][] pdus = {{5, 99}, {5, 8, 0, 0}, {5, 17}, {0, 99}};
         for (int[] pdu : pdus) {
             load(x, java.util.Arrays.copyOfRange(pdu, 1, pdu.length));
-            x.scan(180, pdu[0]);
+            x.scan(260, pdu[0]);
         }
-        for (int i = 0; i < 55; i++) {
+        for (int i = 0; i < 80; i++) {
             x.busy(0, 5);
             x.tick(1000);
         }
@@ -165,6 +165,7 @@ public final class DiagnosesTest extends Check {
         x.serve(0);
         due("counter 8 in 12", x.answer(4) * 256 + x.answer(5), x.counter(0, 8));
         due("counter 0 in 12", x.answer(6) * 256 + x.answer(7), x.counter(0, 0));
+        due("counter 8 has two bytes", x.counter(0, 8) > 256, true);
         int[] counted = {0, 2, 3, 4, 6};
         for (int k : counted) {
             int want = x.counter(0, k);
