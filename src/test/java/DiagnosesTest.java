@@ -41,6 +41,25 @@ public final class DiagnosesTest extends Check {
         return x;
     }
 
+    /** A device whose counters differ from one another, but for those that are 0. */
+    private static FieldLine manyCounted() {
+        FieldLine x = busyLine();
+        x.settings(1, 20, 0);
+        request(x, 6, 17);
+        x.tick(100);
+        for (int i = 0; i < 3; i++) {
+            request(x, 50, 17);
+            x.harm(0, 1);
+            x.tick(100);
+        }
+        for (int i = 0; i < 4; i++) {
+            request(x, 0, 99);
+            x.tick(100);
+        }
+        counters(x, 0, "all of them", 0, 10, 1, 3, 2, 2, 3, 8, 4, 5, 5, 0, 6, 1, 7, 0, 8, 1);
+        return x;
+    }
+
     private static FieldLine line() {
         FieldLine x = new FieldLine();
         x.device(5, 0);
@@ -135,8 +154,8 @@ public final class DiagnosesTest extends Check {
 
     private static void counterKinds() {
         sentence("Terms 3: 8: 11 to 18: 8, kind, counters 0 to 7; 2: as 11 to 18, value 0");
-        FieldLine x = busyLine();
-        int[] want = {4, 0, 2, 4, 1, 0, 1, 0};
+        FieldLine x = manyCounted();
+        int[] want = {10, 3, 2, 8, 5, 0, 1, 0};
         for (int k = 0; k < 8; k++) {
             served(x, 0, bytes(8, 0, 11 + k, 0, 0), 8, 0, 11 + k, 0, want[k]);
             counters(x, 0, "of " + k, k, want[k]);
@@ -246,6 +265,9 @@ public final class DiagnosesTest extends Check {
         served(y, 0, bytes(12), 12, 13, 0, 0, 0, 1, 0, 4, 192, 65, 128, 64, 128, 68, 128);
         counters(y, 0, "not counted", 8, 1);
         refused(y, 0, 3, 12, 0);
+        FieldLine z = manyCounted();
+        served(z, 0, bytes(12), 12, 20, 0, 0, 0, 1, 0, 10, 192, 192, 192, 192, 130, 130, 130, 192, 65, 128, 64, 128, 68, 128);
+        served(z, 0, bytes(11), 11, 0, 0, 0, 1);
     }
 
     /** The k-th event of a run without a period that a shift could hide. */

@@ -443,6 +443,13 @@ public final class MasterTest extends Check {
         }
         y.tick(200);
         result(y, "one byte of it", 2, 2, 1, 0);
+        FieldLine other = line(0);
+        other.settings(1, 200, 0);
+        request(other, 5, 17);
+        other.harm(4, 5 ^ 6);
+        other.tick(ENDED + REPLY + 14);
+        result(other, "with another address", 2, 2, 1, 0);
+        states(other, "not stray", 9, 0);
         FieldLine z = line(0);
         z.settings(1, 200, 0);
         request(z, 5, 17);
@@ -463,7 +470,7 @@ public final class MasterTest extends Check {
         x.settings(1, 400, 0);
         request(x, 6, 17);
         x.tick(94 + REPLY + 14);
-        states(x, "stray", 9, 1, 3, 2, 7, 1);
+        states(x, "stray, and it waits on", 9, 1, 3, 2, 4, 120, 5, 1, 6, 1, 7, 1);
         x.tick(300);
         x.take();
         result(x, "the right one", 0, 0, 1, 4);

@@ -20,6 +20,7 @@ public final class MessagesTest extends Check {
         busyToAll();
         replyInPlace();
         noReplyLeavesTheFormer();
+        deafRestartLeavesTheFormer();
         replyLag();
         replyFrame();
         noReplyCounts();
@@ -89,6 +90,10 @@ public final class MessagesTest extends Check {
         ask(x, 50, 6, 0, 1, 0, 9);
         counters(x, 0, "nobody's", 0, 2, 3, 1);
         due("the register", x.get(0, 2, 1), 0);
+        FieldLine deaf = deafLine();
+        ask(deaf, 6, 17);
+        counters(deaf, 0, "a deaf one: request and reply", 0, 2, 1, 0, 3, 0, 4, 0, 8, 1);
+        events(deaf, 0, "a deaf one", 4);
     }
 
     private static void message() {
@@ -258,6 +263,21 @@ public final class MessagesTest extends Check {
         x.tick(300);
         due("it is sent", x.sent(1), 17);
         states(x, "it is sent", 16, 5);
+    }
+
+    private static void deafRestartLeavesTheFormer() {
+        sentence("Terms 3: without one that stays (a RESTART of a DEAF one)");
+        FieldLine x = line(200);
+        request(x, 5, 17);
+        request(x, 5, 8, 0, 4, 0, 0);
+        request(x, 5, 8, 0, 1, 0, 0);
+        x.tick(ENDED);
+        counters(x, 0, "the first", 12, 7, 13, 200);
+        x.tick(104);
+        counters(x, 0, "restarted", 9, 0, 12, 7, 13, 96, 4, 1);
+        x.tick(300);
+        due("it is sent", x.sent(1), 17);
+        states(x, "it is sent", 16, 4);
     }
 
     private static void replyLag() {

@@ -29,6 +29,7 @@ public final class RulesTest extends Check {
         missingCoil();
         missingQueue();
         missingBehindAFullBank();
+        missingLeavesTheOthers();
         end("RulesTest");
     }
 
@@ -477,5 +478,22 @@ public final class RulesTest extends Check {
             due("none behind", x.get(0, kind, 400), NONE);
         }
         due("the queue", x.push(0, 3, 1), 1);
+    }
+
+    private static void missingLeavesTheOthers() {
+        sentence("Terms 4: a rule with a place, a QUEUE that isn't there does nothing (the others act)");
+        for (int kind = 0; kind <= 6; kind++) {
+            FieldLine x = line();
+            x.put(0, COIL, 10, 1);
+            x.put(0, CONTACT, 10, 1);
+            x.rule(0, 0, 19, 1, 0);
+            x.rule(0, kind, 9, 9, 9);
+            x.rule(0, kind, 10, 20, kind == 6 ? 10 : 9);
+            x.rule(0, 0, 19, 2, 0);
+            x.tick(1);
+            due("those ahead and behind of kind " + kind, x.get(0, GAUGE, 19), 3);
+            x.tick(20);
+            due("again", x.get(0, GAUGE, 19), 6);
+        }
     }
 }

@@ -10,6 +10,7 @@ public final class ScansTest extends Check {
         inOrderAheadOfSending();
         timeLater();
         formerInTheRow();
+        formerBehindOthers();
         formerJustGone();
         formerGoesLater();
         roomTaken();
@@ -176,6 +177,25 @@ public final class ScansTest extends Check {
         states(x, "the wire is idle", 16, 3);
         due("its address", x.sent(0), 50);
         due("it had the number 2", request(x, 0, 17), 3);
+    }
+
+    private static void formerBehindOthers() {
+        sentence("Terms 5: if the scan's former one is not in the row any more (it is not the first one there)");
+        for (int behind = 1; behind <= 14; behind++) {
+            FieldLine x = line();
+            x.settings(1, 1000, 0);
+            scan(x, 50, 0, 17);
+            for (int i = 0; i < behind; i++) {
+                request(x, 50, 17);
+            }
+            x.tick(51);
+            states(x, "the scan's came behind " + behind, 5, behind + 1);
+            x.tick(50);
+            states(x, "none comes", 0, 101, 5, behind + 1);
+            request(x, 50, 17);
+            x.tick(50);
+            states(x, "with one behind it, none comes", 0, 151, 5, behind + 2);
+        }
     }
 
     /** Ways in which a scan's request goes from the row: its address, its function, the ticks from its coming to its going. */
