@@ -9,6 +9,7 @@ public final class MessagesTest extends Check {
         badFrameAtADeafOne();
         frameOfAnother();
         message();
+        messageOfADevice();
         messageToAll();
         deafHearsOnlyARestart();
         deafRestartAsItMustBe();
@@ -19,6 +20,7 @@ public final class MessagesTest extends Check {
         notServedToAll();
         busyToAll();
         replyInPlace();
+        replyIsWhatCameThen();
         noReplyLeavesTheFormer();
         deafRestartLeavesTheFormer();
         replyLag();
@@ -106,6 +108,24 @@ public final class MessagesTest extends Check {
         ask(deaf, 5, 17);
         counters(deaf, 0, "deaf", 0, 1, 3, 1, 4, 1);
         events(deaf, 0, "deaf", 160, 4);
+    }
+
+    private static void messageOfADevice() {
+        sentence("Terms 3: a MESSAGE: GOOD, with its own address (whoever sent it)");
+        FieldLine x = line(0);
+        request(x, 5, 17);
+        turn(x, 4, frame(5, 17, 2, 0, 255), frame(6, 5, 0, 1, 255));
+        x.tick(150);
+        counters(x, 1, "a bad coil value", 0, 2, 1, 0, 2, 1, 3, 1, 4, 0);
+        events(x, 1, "a refusal", 65, 128);
+        FieldLine y = line(0);
+        request(y, 5, 8, 0, 0, 7, 7);
+        turn(y, 8, frame(5, 8, 0, 0, 7, 7), frame(0, 6, 0, 1, 7, 7));
+        y.tick(200);
+        due("served to all: the register", y.get(1, 2, 1), 1799);
+        due("who sent it does not hear it", y.get(0, 2, 1), 0);
+        counters(y, 1, "to all", 3, 1, 4, 1, 8, 1);
+        counters(y, 0, "who sent it", 3, 1, 4, 0, 8, 1);
     }
 
     private static void messageToAll() {
@@ -242,9 +262,37 @@ public final class MessagesTest extends Check {
         counters(x, 0, "the first", 12, 7, 13, 200);
         x.tick(36);
         counters(x, 0, "the second", 12, 8, 13, 200);
+        events(x, 0, "both were replies", 64, 128, 64, 128);
         x.tick(500);
         states(x, "one reply", 16, 3);
         due("the second", x.sent(1), 11);
+        events(x, 0, "no more", 64, 128, 64, 128);
+    }
+
+    private static void replyIsWhatCameThen() {
+        sentence("Terms 3: else it is SERVED; what comes is its REPLY (at once, though it is sent later)");
+        FieldLine x = line(100);
+        x.put(0, 2, 1, 9);
+        request(x, 5, 3, 0, 1, 0, 1);
+        x.tick(32 + 13);
+        x.put(0, 2, 1, 10);
+        x.tick(1);
+        counters(x, 0, "served", 8, 1, 12, 7);
+        events(x, 0, "served", 64, 128);
+        x.put(0, 2, 1, 11);
+        x.busy(0, 9);
+        x.tick(101);
+        due("the value as it was then", x.sent(3) * 256 + x.sent(4), 10);
+        FieldLine y = line(100);
+        request(y, 5, 6, 0, 1, 0, 9);
+        y.tick(32 + 14);
+        due("written at once", y.get(0, 2, 1), 9);
+        states(y, "not yet sent", 16, 1);
+        FieldLine z = line(100);
+        request(z, 5, 99);
+        z.tick(ENDED);
+        counters(z, 0, "refused at once", 2, 1, 12, 5);
+        events(z, 0, "refused at once", 65, 128);
     }
 
     private static void noReplyLeavesTheFormer() {
@@ -294,6 +342,17 @@ public final class MessagesTest extends Check {
             x.tick(1);
             counters(x, 0, "begun", 12, 0, 13, 0);
             states(x, "begun", 1, 2, 16, 2);
+        }
+        FieldLine y = new FieldLine();
+        int[] differing = {7, 0, 100};
+        for (int d = 0; d < 3; d++) {
+            y.device(5 + d, differing[d]);
+        }
+        for (int d = 0; d < 3; d++) {
+            request(y, 5 + d, 17);
+            y.tick(ENDED);
+            counters(y, d, "each device's own", 12, 7, 13, differing[d]);
+            y.tick(300);
         }
     }
 
