@@ -146,6 +146,9 @@ public final class FitsTest extends Check {
             fitsNot(b(f, 0, 0, 0, 1), b(f, 2, 0, 0, 0));
             fitsNot(b(f, 0, 0, 0, 1), b(f, 1, 0));
             fitsNot(b(f, 0, 0, 0, 1), b(f, 4, 0, 0, 0, 0));
+            fitsNot(b(f, 0, 0, 0, 1), b(f, 1, 0, 0));
+            fitsNot(b(f, 0, 0, 0, 1), b(f, 3, 0, 0));
+            fitsNot(b(f, 0, 0, 0, 2), b(f, 2, 0, 0, 0, 0));
             fitsNot(b(f, 0, 0, 0, 1), b(f));
             fitsNot(b(f, 0, 0, 0, 124), b(b(f, 250), 1, 250));
         }
@@ -159,6 +162,7 @@ public final class FitsTest extends Check {
         fitsNot(q, b(23, 2, 9));
         fitsNot(q, b(23, 2, 9, 9, 9));
         fitsNot(q, b(23, 1, 9, 9));
+        fitsNot(q, b(23));
         fits(b(23, 0, 0, 0, 1, 0, 1, 0, 1, 2, 0, 3), b(23, 2, 9, 9));
         fits(b(b(23, 0, 0, 0, 125, 0, 0, 0, 121, 242), 1, 242), b(b(23, 250), 1, 250));
     }
@@ -202,6 +206,7 @@ public final class FitsTest extends Check {
         for (int n : wrong) {
             fitsNot(b(12), b(b(12, n), 1, n));
         }
+        fitsNot(b(12), b(12));
     }
 
     private static void whoItIs() {

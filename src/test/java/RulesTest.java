@@ -209,6 +209,21 @@ public final class RulesTest extends Check {
         for (int i = 0; i < cases.length; i++) {
             due(cases[i][0] + " and " + cases[i][1], x.get(0, CONTACT, 10 + i), cases[i][2]);
         }
+        for (int above = 0; above <= 1; above++) {
+            FieldLine y = line();
+            for (int at = 10; at < 20; at++) {
+                y.put(0, GAUGE, at, above == 1 ? 0 : 100);
+                y.put(0, REGISTER, at, above == 1 ? 100 : 0);
+                y.put(0, CONTACT, at, 1 - above);
+            }
+            y.put(0, GAUGE, 13, 51 - 2 * (1 - above));
+            y.put(0, REGISTER, 16, 50);
+            y.rule(0, 3, 13, 16, 18);
+            y.tick(1);
+            for (int at = 10; at < 20; at++) {
+                due("contact " + at, y.get(0, CONTACT, at), at == 18 ? above : 1 - above);
+            }
+        }
     }
 
     private static void coilIfContact() {
