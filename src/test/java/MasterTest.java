@@ -395,16 +395,21 @@ public final class MasterTest extends Check {
 
     private static void strayWithARequestInTheRow() {
         sentence("Terms 5: if it doesn't WAIT, it is STRAY (with a request that it would fit)");
-        FieldLine x = line(100);
-        x.settings(1, 20, 0);
-        request(x, 5, 17);
-        x.tick(ENDED + 100 + 5);
-        states(x, "the device sends", 1, 2);
-        request(x, 5, 17);
-        x.tick(REPLY - 5 + 14);
-        states(x, "stray", 9, 1, 7, 1, 5, 1, 6, 0);
-        x.tick(1);
-        states(x, "it is begun", 1, 1, 6, 1);
+        for (int harm = 0; harm < 2; harm++) {
+            FieldLine x = line(100);
+            x.settings(1, 20, 0);
+            request(x, 5, 17);
+            if (harm == 1) {
+                x.harm(4 + 6, 1);
+            }
+            x.tick(ENDED + 100 + 5);
+            states(x, "the device sends", 1, 2);
+            request(x, 5, 17);
+            x.tick(REPLY - 5 + 14);
+            states(x, "stray", 9, 1, 7, 1, 5, 1, 6, 0);
+            x.tick(1);
+            states(x, "it is begun", 1, 1, 6, 1);
+        }
     }
 
     private static void strayForAddressZero() {
@@ -476,6 +481,17 @@ public final class MasterTest extends Check {
         result(x, "the right one", 0, 0, 1, 4);
         due("its number", x.data(2), 1);
         states(x, "one is stray", 9, 1);
+        int[] others = {0, 4, 133, 255};
+        for (int address : others) {
+            FieldLine y = line(0);
+            y.settings(1, 200, 0);
+            request(y, 5, 17);
+            turn(y, 4, frame(5, 17, 2, 0, 255), frame(address, 17, 2, 0, 255));
+            y.tick(ENDED + REPLY + 14);
+            states(y, "of address " + address, 9, 1, 3, 2, 7, 0);
+            y.tick(200);
+            result(y, "of address " + address, 2, 1, 1, 0);
+        }
     }
 
     /** The master hears a reply to function 7 as a refusal with a code. */

@@ -92,6 +92,16 @@ public final class MessagesTest extends Check {
         ask(x, 50, 6, 0, 1, 0, 9);
         counters(x, 0, "nobody's", 0, 2, 3, 1);
         due("the register", x.get(0, 2, 1), 0);
+        int[] others = {1, 4, 7, 133, 247, 248, 255};
+        for (int address : others) {
+            FieldLine y = line(0);
+            request(y, 5, 6, 0, 1, 0, 9);
+            turn(y, 0, frame(5, 6, 0, 1, 0, 9), frame(address, 6, 0, 1, 0, 9));
+            y.tick(150);
+            counters(y, 0, "address " + address, 0, 1, 1, 0, 3, 0, 4, 0, 8, 0, 12, 0);
+            due("the register", y.get(0, 2, 1), 0);
+            events(y, 0, "address " + address);
+        }
         FieldLine deaf = deafLine();
         ask(deaf, 6, 17);
         counters(deaf, 0, "a deaf one: request and reply", 0, 2, 1, 0, 3, 0, 4, 0, 8, 1);

@@ -12,6 +12,7 @@ public final class RulesTest extends Check {
         rulesTwelve();
         ruleWithoutDevice();
         whenTheyAct();
+        whateverGoesOn();
         inOrder();
         gaugeGoesRound();
         gaugeIsRegister();
@@ -128,6 +129,25 @@ public final class RulesTest extends Check {
         due("told behind T 0", late.get(0, GAUGE, 10), 0);
         late.tick(1);
         due("told behind T 0, at T 20", late.get(0, GAUGE, 10), 1);
+    }
+
+    private static void whateverGoesOn() {
+        sentence("Terms 1: if T is a multiple of 20: its RULES (while frames are sent, of a BUSY or DEAF one)");
+        FieldLine x = line();
+        x.device(6, 0);
+        x.bank(1, GAUGE, 0, 1);
+        x.rule(0, 0, 10, 1, 0);
+        x.rule(1, 0, 0, 1, 0);
+        x.busy(0, 5);
+        load(x, 8, 0, 4, 0, 0);
+        x.serve(1);
+        request(x, 5, join(bytes(8, 0, 0), repeat(1, 250)));
+        for (int acted = 1; acted <= 100; acted++) {
+            x.tick(20);
+            due("a busy one at T " + 20 * (acted - 1), x.get(0, GAUGE, 10), acted);
+            due("a deaf one at T " + 20 * (acted - 1), x.get(1, GAUGE, 0), acted);
+        }
+        states(x, "a request, a refusal, the request again", 16, 3);
     }
 
     private static void inOrder() {
