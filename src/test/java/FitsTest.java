@@ -242,6 +242,20 @@ public final class FitsTest extends Check {
         fitsNot(b(20, 7, 6, 0, 1, 0, 0, 0, 0), b(20, 0));
         fitsNot(b(20, 7, 6, 0, 1, 0, 0, 0, 0), b(20, 1, 1));
         fits(b(20, 7, 6, 0, 1, 0, 0, 0, 124), b(b(20, 250, 249, 6), 1, 248));
+        int[] three = {20, 21, 6, 0, 1, 0, 0, 0, 5, 6, 0, 2, 0, 9, 0, 0, 6, 1, 1, 1, 1, 0, 3};
+        fits(three, join(b(b(20, 22, 11, 6), 9, 10), b(1, 6), b(b(7, 6), 8, 6)));
+        fitsNot(three, join(b(b(20, 22, 11, 6), 9, 10), b(1, 6), b(b(7, 5), 8, 6)));
+        fitsNot(three, join(b(b(20, 20, 11, 6), 9, 10), b(b(7, 6), 8, 6)));
+        fitsNot(three, join(b(b(20, 24, 11, 6), 9, 10), b(1, 6), b(b(7, 6), 8, 6), b(1, 6)));
+        int[] most = b(20, 245);
+        int[] answer = b(20, 70);
+        for (int i = 0; i < 35; i++) {
+            most = join(most, b(6, 0, 1, 0, 0, 0, 0));
+            answer = join(answer, b(1, 6));
+        }
+        fits(most, answer);
+        answer[1] = 68;
+        fitsNot(most, Arrays.copyOf(answer, 70));
     }
 
     private static void queues() {

@@ -31,6 +31,8 @@ public final class RulesTest extends Check {
         missingQueue();
         missingBehindAFullBank();
         missingLeavesTheOthers();
+        placesOfEachBank();
+        placesOfAnotherBank();
         end("RulesTest");
     }
 
@@ -530,5 +532,86 @@ public final class RulesTest extends Check {
             x.tick(20);
             due("again", x.get(0, GAUGE, 19), 6);
         }
+    }
+
+    /** Banks that have no place alike: the first places of coils, contacts, registers, gauges; then the queue's place. */
+    private static final int[] FIRST = {0, 20, 40, 60, 80};
+
+    /** What a, b and c are of each kind of rule: a kind of bank, 4 a queue, 9 a number. */
+    private static final int[][] PLACES = {{GAUGE, 9, 9}, {GAUGE, REGISTER, 9}, {GAUGE, REGISTER, 9},
+        {GAUGE, REGISTER, CONTACT}, {CONTACT, COIL, 9}, {COIL, GAUGE, 9}, {GAUGE, 4, COIL}};
+
+    /** What the first places are, so that a rule of a kind would be seen. */
+    private static int[] valuesFor(int kind) {
+        return bytes(kind == 4 ? 0 : 1, kind == 3 ? 0 : 1, 5, 9);
+    }
+
+    private static FieldLine apart(int ruleKind) {
+        FieldLine x = new FieldLine();
+        x.device(5, 0);
+        for (int kind = 0; kind < 4; kind++) {
+            x.bank(0, kind, FIRST[kind], 10);
+            x.put(0, kind, FIRST[kind], valuesFor(ruleKind)[kind]);
+        }
+        x.queue(0, FIRST[4]);
+        return x;
+    }
+
+    private static int firstOf(int place) {
+        return place == 9 ? 3 : FIRST[place];
+    }
+
+    private static int queued(FieldLine x) {
+        load(x, 24, 0, FIRST[4]);
+        x.serve(0);
+        return x.answer(4);
+    }
+
+    private static void placesOfEachBank() {
+        sentence("Terms 4: a rule with a place that is there (of banks that have no place alike)");
+        FieldLine[] lines = new FieldLine[7];
+        for (int kind = 0; kind <= 6; kind++) {
+            lines[kind] = apart(kind);
+            int[] places = PLACES[kind];
+            lines[kind].rule(0, kind, firstOf(places[0]), firstOf(places[1]), firstOf(places[2]));
+            lines[kind].tick(1);
+        }
+        due("0", lines[0].get(0, GAUGE, FIRST[GAUGE]), 12);
+        due("1", lines[1].get(0, GAUGE, FIRST[GAUGE]), 5);
+        due("2", lines[2].get(0, GAUGE, FIRST[GAUGE]), 6);
+        due("3", lines[3].get(0, CONTACT, FIRST[CONTACT]), 1);
+        due("4", lines[4].get(0, COIL, FIRST[COIL]), 1);
+        due("5", lines[5].get(0, COIL, FIRST[COIL]), 0);
+        due("5", lines[5].get(0, GAUGE, FIRST[GAUGE]), 0);
+        due("6", queued(lines[6]), 1);
+    }
+
+    private static void placesOfAnotherBank() {
+        sentence("Terms 4: a rule with a place that isn't there does nothing (a place of other banks)");
+        for (int kind = 0; kind <= 6; kind++) {
+            for (int wrong = 0; wrong < 3; wrong++) {
+                for (int other = 0; other < FIRST.length && PLACES[kind][wrong] != 9; other++) {
+                    if (other == PLACES[kind][wrong]) {
+                        continue;
+                    }
+                    int[] at = {firstOf(PLACES[kind][0]), firstOf(PLACES[kind][1]), firstOf(PLACES[kind][2])};
+                    at[wrong] = FIRST[other];
+                    FieldLine x = apart(kind);
+                    x.rule(0, kind, at[0], at[1], at[2]);
+                    x.tick(1);
+                    nothingDone(x, kind, "rule " + kind + " " + java.util.Arrays.toString(at));
+                }
+            }
+        }
+    }
+
+    private static void nothingDone(FieldLine x, int ruleKind, String rule) {
+        for (int kind = 0; kind < 4; kind++) {
+            for (int i = 0; i < 10; i++) {
+                int want = i == 0 ? valuesFor(ruleKind)[kind] : 0;
+                due(rule + ": kind " + kind + ", place " + i, x.get(0, kind, FIRST[kind] + i), want);
+            }
+        }
+        due(rule + ": in the queue", queued(x), 0);
     }
 }
